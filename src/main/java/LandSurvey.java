@@ -1196,10 +1196,16 @@ public final class LandSurvey {
             Arrays.fill(floor, -FAR);
             boolean known = false;
             for (int k = 0; k < sightCount; k++) {
-                if (sights[k].says && (doubted >> k & 1) == 0) {
+                Sight seen = sights[k];
+                if (seen.says && (doubted >> k & 1) == 0) {
                     known = true;
-                    layBounds(sights[k], 1L << k);
-                    layDip(sights[k], 1L << k);
+                    layBounds(seen, 1L << k);
+                    if (seen.dipBeyond != NONE) {
+                        // ways come in pairs, so the last bit turns one round
+                        int home = WAYS * seen.dipBeyond + (seen.dipWhere ^ 1);
+                        slopes.narrow(WAYS * seen.cell + seen.dipWhere, seen.dipRise + seen.dipSlack, 1L << k);
+                        slopes.narrow(home, seen.dipSlack - seen.dipRise, 1L << k);
+                    }
                 }
             }
             if (!known) {
@@ -1221,14 +1227,6 @@ public final class LandSurvey {
             if (seen.least > floor[cell]) {
                 floor[cell] = seen.least;
                 floorBlamed[cell] = bit;
-            }
-        }
-
-        private void layDip(Sight seen, long bit) {
-            if (seen.dipBeyond != NONE) {
-                // ways come in pairs, so the last bit turns one round
-                slopes.narrow(WAYS * seen.cell + seen.dipWhere, seen.dipRise + seen.dipSlack, bit);
-                slopes.narrow(WAYS * seen.dipBeyond + (seen.dipWhere ^ 1), seen.dipSlack - seen.dipRise, bit);
             }
         }
 
@@ -1451,7 +1449,10 @@ public final class LandSurvey {
         }
     }
 
-    /** The words of the language; fact is the place of what a word tells of, NONE if it tells nothing. */
+    /**
+     * The words of the language; fact is the place of what a word tells of, NONE if it tells nothing.
+     * A word's code is its letters as a number to the base 27: eight fit into a long, and no text is made.
+     */
     private enum Word {
         ROCK("rock", NONE), TO("to", NONE), NAME("name", NONE), WHEN("when", NONE), RANK("rank", NONE),
         DRAW("draw", NONE), FULL("full", NONE), BROKEN("broken", NONE), DOTTED("dotted", NONE),
@@ -1469,15 +1470,10 @@ public final class LandSurvey {
         Word(String text, int fact) {
             long packed = 0;
             for (int k = 0; k < text.length(); k++) {
-                packed = withLetter(packed, text.charAt(k));
+                packed = 27 * packed + (text.charAt(k) - 'a' + 1);
             }
             this.code = packed;
             this.fact = fact;
-        }
-
-        /** A word of eight letters fits into a long, so that no text need be made to hold it. */
-        static long withLetter(long packed, char letter) {
-            return 27 * packed + (letter - 'a' + 1);
         }
 
         static Word ofCode(long code) {
@@ -1497,6 +1493,8 @@ public final class LandSurvey {
         private static final int NUMBER = 2;
         private static final int SIGN = 3;
         private static final int NOTHING = 4;
+        private static final int LONGEST_WORD = 8;
+        private static final int LONGEST_NUMBER = 4;
 
         private static final int MISPLACED = 1;
         private static final int UNTOLD = 2;
@@ -1550,6 +1548,7 @@ public final class LandSurvey {
             return fault;
         }
 
+        /** Takes the next token in hand, as long as it can be; one that is too long is none. */
         private void advance() {
             while (at < length && (tape[at] == ' ' || tape[at] == '\n')) {
                 at++;
@@ -1557,46 +1556,27 @@ public final class LandSurvey {
             place = at;
             word = null;
             value = 0;
+            char first = at < length ? tape[at] : 0;
             if (at >= length) {
                 kind = END;
-            } else if (isLetter(tape[at])) {
-                takeWord();
-            } else if (isDigit(tape[at])) {
-                takeNumber();
+            } else if (first >= 'a' && first <= 'z') {
+                while (at < length && tape[at] >= 'a' && tape[at] <= 'z') {
+                    value = 27 * value + (tape[at] - 'a' + 1);
+                    at++;
+                }
+                kind = at - place <= LONGEST_WORD ? WORD : NOTHING;
+                word = kind == WORD ? Word.ofCode(value) : null;
+            } else if (first >= '0' && first <= '9') {
+                while (at < length && tape[at] >= '0' && tape[at] <= '9') {
+                    value = 10 * value + (tape[at] - '0');
+                    at++;
+                }
+                kind = at - place <= LONGEST_NUMBER ? NUMBER : NOTHING;
             } else {
-                value = tape[at];
-                kind = isSign(tape[at]) ? SIGN : NOTHING;
+                value = first;
+                kind = "()<=+-;".indexOf(first) >= 0 ? SIGN : NOTHING;
                 at++;
             }
-        }
-
-        private void takeWord() {
-            while (at < length && isLetter(tape[at])) {
-                value = Word.withLetter(value, tape[at]);
-                at++;
-            }
-            kind = at - place <= 8 ? WORD : NOTHING;
-            word = kind == WORD ? Word.ofCode(value) : null;
-        }
-
-        private void takeNumber() {
-            while (at < length && isDigit(tape[at])) {
-                value = 10 * value + (tape[at] - '0');
-                at++;
-            }
-            kind = at - place <= 4 ? NUMBER : NOTHING;
-        }
-
-        private static boolean isLetter(char sign) {
-            return sign >= 'a' && sign <= 'z';
-        }
-
-        private static boolean isDigit(char sign) {
-            return sign >= '0' && sign <= '9';
-        }
-
-        private static boolean isSign(char sign) {
-            return "()<=+-;".indexOf(sign) >= 0;
         }
 
         private boolean wrong(int how) {
