@@ -18,6 +18,8 @@ public final class PromisesTest {
         sightLimit();
         dip();
         dipsOfOneSide();
+        dipsAtTheEdges();
+        dipsThatHardlyClash();
         remain();
         withdraw();
         feed();
@@ -261,6 +263,50 @@ public final class PromisesTest {
         y.question(5, 4, true);
         y.place(4, 4, 1);
         CHECK.same("8 as all say", y.left(0), 3);
+    }
+
+    private static void dipsAtTheEdges() {
+        int[][] near = {{1, 3, 0, 3}, {10, 3, 11, 3}, {3, 1, 3, 0}, {3, 6, 3, 7}};
+        int[][] off = {{0, 3}, {11, 3}, {3, 0}, {3, 7}};
+        for (int where = 0; where < 4; where++) {
+            LandSurvey x = Check.with("rock a 0 to 0; name a when 1; steep 33;");
+            x.sight(2, near[where][0], near[where][1], 0, 0, 0);
+            CHECK.yes("8 the least n", x.dip(0, where, -99, 0));
+            CHECK.same("8 to the edge " + where, x.base(0, near[where][2], near[where][3], 1), 401);
+            LandSurvey y = Check.with("rock a 0 to 0; name a when 1; steep 1;");
+            y.sight(2, off[where][0], off[where][1], 0, 0, 0);
+            CHECK.yes("8 off the land", y.dip(0, where, 99, 0));
+            CHECK.same("8 off the land says nothing", y.best(2), 0);
+        }
+        LandSurvey z = Check.with("rock a 0 to 0; name a when 1; steep 90;");
+        z.sight(2, 5, 5, 0, 0, 0);
+        CHECK.yes("8 the greatest n and w", z.dip(0, 0, 99, 99));
+        CHECK.same("8 low", z.base(0, 4, 5, 0), 500);
+        CHECK.same("8 high", z.base(0, 4, 5, 1), 698);
+    }
+
+    private static void dipsThatHardlyClash() {
+        // so much may lie under the sights that only the dips themselves can tell that they clash
+        StringBuilder rocks = new StringBuilder();
+        for (int r = 0; r < 10; r++) {
+            rocks.append("rock ").append((char) ('a' + r)).append(" 0 to 200;");
+        }
+        LandSurvey x = Check.with(rocks + "name a when 1; rank 3 when hand = 1;");
+        x.sight(2, 4, 4, 0, 0, 0);
+        x.sight(2, 5, 4, 0, 1, 0);
+        x.dip(0, 1, 10, 0);
+        x.dip(1, 0, -9, 0);
+        CHECK.same("8 by one", x.best(1), 3);
+        CHECK.same("8 by one", x.doubted(0, 0), 1);
+        CHECK.same("8 low", x.base(0, 4, 4, 0), -1500);
+        LandSurvey y = Check.with(rocks + "name a when 1; steep 4;");
+        y.sight(2, 4, 4, 0, 0, 0);
+        y.dip(0, 3, 13, 0);
+        CHECK.same("8 round a square", y.best(2), 1);
+        LandSurvey z = Check.with(rocks + "name a when 1; steep 4;");
+        z.sight(2, 4, 4, 0, 0, 0);
+        z.dip(0, 3, 12, 0);
+        CHECK.same("8 just so round a square", z.best(2), 0);
     }
 
     private static void remain() {
@@ -509,6 +555,12 @@ public final class PromisesTest {
         CHECK.same("17 no third", x.doubted(0, 2), -1);
         CHECK.same("17 below", x.doubted(0, -1), -1);
         CHECK.same("17 far", x.doubted(0, FAR_OFF), -1);
+        CHECK.same("15 doubted in the best", x.look(1, 4), 1);
+        CHECK.same("15 not doubted in the best", x.look(0, 4), 0);
+        x.days(1);
+        x.withdraw(1);
+        CHECK.same("17 of equal ones the least", x.doubted(0, 0), 2);
+        x.view(0);
         CHECK.same("17 no such set", x.doubted(1, 0), -1);
         CHECK.same("17 no such set", x.doubted(-1, 0), -1);
         // equal costs: 2 to the 1 and 2 to the 2 are less than 2 to the 0 and 2 to the 3
@@ -518,6 +570,10 @@ public final class PromisesTest {
         }
         CHECK.same("17 of equal ones", y.doubted(0, 0), 1);
         CHECK.same("17 of equal ones", y.doubted(0, 1), 2);
+        LandSurvey w = Check.with("rock a 0 to 0; name a when 1; steep 0;");
+        w.sight(2, 0, 0, 1, 0, 0);
+        w.sight(2, 5, 5, 0, 0, 0);
+        CHECK.same("17 the least sight", w.doubted(0, 0), 0);
         // the sight with the dip is to blame together with the bores at either end
         LandSurvey z = Check.with("rock a 0 to 0; name a when 1; steep 3; rank 1 when hand = 1;");
         z.sight(2, 4, 4, 0, 0, 0);
@@ -649,6 +705,17 @@ public final class PromisesTest {
         CHECK.same("22 where", x.line(0, 0, 4), -1);
         CHECK.same("22 where", x.line(0, 0, -1), -1);
         CHECK.same("22 off", x.line(12, 0, 0), -1);
+        CHECK.same("22 off", x.line(0, 7, 3), -1);
+        CHECK.same("22 off", x.line(0, 3, 0), -1);
+        CHECK.same("22 off", x.line(11, 3, 1), -1);
+        CHECK.same("22 not certain", x.line(1, 1, 0), 1);
+        CHECK.same("22 not certain", x.line(10, 6, 1), 1);
+        CHECK.same("22 not certain", x.line(0, 1, 2), 1);
+        CHECK.same("22 not certain", x.line(0, 6, 3), 1);
+        x.cell(5, 5, 500, true);
+        x.cell(6, 5, 501, true);
+        CHECK.same("22 at depth 0", x.line(5, 5, 1), 1);
+        CHECK.same("22 at depth 0", x.line(6, 5, 1), 1);
         LandSurvey y = Check.with("rock a 50 to 50; rock b 0 to 0; rock c 50 to 50; name c when 1; steep 0;");
         y.sight(2, 0, 0, 0, 0, 0);
         y.sight(2, 1, 0, 50, 0, 0);
@@ -734,6 +801,14 @@ public final class PromisesTest {
         x.fold(2, 2, true);
         // turned: a to 360, b to 380, c to 410, d to 450; c on tight b
         CHECK.same("24 turned", x.water(2, 2, 0), 120);
+        LandSurvey top = Check.with("rock a 10 to 10; rock b 20 to 20; name b when 1; holds b; tight a;");
+        top.sight(2, 0, 0, 30, 0, 0);
+        top.sight(2, 0, 0, 50, 0, 0);
+        CHECK.same("24 not turned", top.water(0, 0, 1), -1);
+        top.fold(0, 0, true);
+        // turned: z is from 10 to 30 above the base for either sight, so the base is 440
+        CHECK.same("24 turned, the uppermost of all", top.water(0, 0, 0), 50);
+        CHECK.same("24 turned, the uppermost of all", top.water(0, 0, 1), 50);
         CHECK.same("24 what", x.water(2, 2, 2), -1);
         CHECK.same("24 what", x.water(2, 2, -1), -1);
         CHECK.same("24 off", x.water(12, 2, 0), -1);
@@ -835,6 +910,17 @@ public final class PromisesTest {
         CHECK.same("28 with itself", x.quarrel(2, 2), 0);
         CHECK.same("28 none such", x.quarrel(0, 3), -1);
         CHECK.same("28 none such", x.quarrel(-1, 0), -1);
+        LandSurvey y = Check.with("rock a 50 to 50; rock b 50 to 50; name b when 1; steep 0;");
+        y.sight(2, 5, 0, 0, 0, 0);
+        y.sight(2, 6, 0, 50, 0, 0);
+        for (int height = 480; height <= 520; height += 40) {
+            y.cell(0, 0, height, true);
+            y.cell(11, 7, height, true);
+            y.sheet(0, 0, 11, 7);
+        }
+        CHECK.same("28 the corners", y.quarrel(0, 1), 2);
+        y.cell(0, 0, 480, true);
+        CHECK.same("29 a corner", y.stale(1), 1);
     }
 
     private static void stale() {
@@ -885,6 +971,10 @@ public final class PromisesTest {
         CHECK.same("30 doubles", x.doubles(0, 1, 0), 2);
         CHECK.same("30 alike", x.doubles(0, 1, 1), 1);
         CHECK.same("30 either way", x.doubles(1, 0, 0), 2);
+        x.sight(2, 0, 0, 10, 4, 1000);
+        CHECK.same("30 alike", x.doubles(4, 0, 1), 1);
+        CHECK.same("30 alike", x.doubles(1, 4, 1), 1);
+        CHECK.same("30 doubles", x.doubles(1, 4, 0), 2);
         CHECK.same("30 none", x.doubles(0, 2, 0), 0);
         CHECK.same("30 the same", x.doubles(1, 1, 0), -1);
         CHECK.same("30 hand", x.doubles(6, 1, 0), -1);
@@ -972,6 +1062,13 @@ public final class PromisesTest {
         CHECK.same("34 nothing asked", x.doubt(), 0);
         CHECK.same("35 nothing asked", x.left(0), 0);
         CHECK.same("36 nothing above 0", x.next(), -1);
+        LandSurvey z = Check.with("rock a 0 to 100; name a when 1; steep 10;");
+        z.sight(2, 0, 0, 0, 0, 0);
+        z.sight(2, 2, 0, 60, 0, 0);
+        z.question(2, 0, true);
+        z.place(0, 0, 1);
+        // 400 to 460 at either; at 400 there 400 to 420 is left here, at 460 and 430 more
+        CHECK.same("35 the greatest of three", z.left(0), 40);
         LandSurvey y = Check.with("rock a 0 to 5; name a when 1; steep 9;");
         y.sight(2, 5, 5, 501, 0, 0);
         y.dip(0, 1, 20, 3);
@@ -994,6 +1091,16 @@ public final class PromisesTest {
         x.place(1, 0, 2);
         x.place(2, 0, 2);
         CHECK.same("36 of equal ones the first", x.next(), 1);
+        x.question(3, 3, false);
+        x.question(0, 0, true);
+        LandSurvey one = Check.with("rock a 0 to 1; name a when 1; steep 0;");
+        one.sight(2, 0, 0, 0, 0, 0);
+        one.question(0, 0, true);
+        CHECK.same("36 no place", one.next(), -1);
+        one.place(0, 0, 99);
+        CHECK.same("34 the first cell", one.doubt(), 1);
+        CHECK.same("35 the first cell", one.left(0), 0);
+        CHECK.same("36 the first place", one.next(), 0);
         LandSurvey y = Check.with("rock a 0 to 0; name a when 1; steep 0;");
         y.sight(2, 0, 0, 0, 0, 0);
         y.question(3, 3, true);
@@ -1037,6 +1144,11 @@ public final class PromisesTest {
         x.cell(4, 3, 520, true);
         x.cell(5, 3, 600, true);
         CHECK.same("37 one thing alone", x.count(10), 3);
+        x.cell(6, 3, 489, true);
+        x.cell(7, 3, 490, true);
+        x.cell(8, 3, 491, true);
+        CHECK.same("37 at the top", x.count(10), 4);
+        CHECK.same("22 at the top", x.line(6, 3, 1), 1);
         x.view(3);
         CHECK.same("37 told ahead or not", x.count(2), 4);
         CHECK.same("37 those that say something", x.count(3), 2);

@@ -223,7 +223,7 @@ public final class RulesTest {
     private static void meaning() {
         String[] yes = {"1", "colour = 1", "grain = 2", "hard = 3", "fizz = 4", "kind = 3", "hand = 5", "depth = 60",
             "height = 700", "agree = 0", "apart = 0", "same = 0", "kept = 0", "not 0", "not not 5 = 1", "2 < 3", "0 - 1",
-            "1 - 2 - 3 = 0 - 4", "1 or 0 and 0 or 1", "5 and 7 = 7", "( 1 < 2 ) + ( 2 < 3 ) = 2", "not 0 + 1 = 2",
+            "1 - 2 - 3 = 0 - 4", "1 or 0 and 0 or 1", "5 and 7 = 7", "( 1 < 2 ) + ( 2 < 3 ) = 2", "not 0 + 1 = 2", "( 3 = 3 ) + 1 = 2", "( 0 or 5 ) + 1 = 2",
             "not ( 0 + 1 ) = 0", "9999 + 9999 - 9999 = 9999", "( 5 and 7 ) = 1", "( 0 or 7 ) = 1", "1 + 2 < 2 + 2", "0 - 5 < 0 - 4"};
         String[] no = {"0", "colour = 2", "1 or 1 and 0", "3 < 3", "3 < 2", "3 = 2", "1 and 0", "0 or 0", "not 1", "not 7",
             "5 and ( 7 = 6 )", "1 - 1", "agree", "apart", "same", "kept", "( 5 and 7 ) = 7"};
