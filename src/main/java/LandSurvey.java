@@ -71,7 +71,7 @@ public final class LandSurvey {
     private static final int NEGATE = -27;
 
     private int now;
-    private int told;
+    private int viewTold;
     private final Land land;
     private final Sight[] sights;
     private int sightCount;
@@ -91,7 +91,7 @@ public final class LandSurvey {
     private final int[] facts;
 
     public LandSurvey() {
-        told = NONE;
+        viewTold = NONE;
         land = new Land();
         sights = new Sight[MOST_SIGHTS];
         reader = new Reader();
@@ -116,7 +116,7 @@ public final class LandSurvey {
         if (day < 0 || day > now) {
             return false;
         }
-        told = day == now ? NONE : day;
+        viewTold = day == now ? NONE : day;
         settled = false;
         return true;
     }
@@ -614,7 +614,7 @@ public final class LandSurvey {
     }
 
     private int dayShown() {
-        return told == NONE ? now : told;
+        return viewTold == NONE ? now : viewTold;
     }
 
     /** Sights are read by the rules once after each change, not at each question. */
@@ -1520,8 +1520,8 @@ public final class LandSurvey {
         void takeSigns(long eight) {
             for (int shift = 56; shift >= 0; shift -= 8) {
                 int sign = (int) (eight >>> shift) & 255;
-                boolean taken = sign == 10 || sign >= 32 && sign <= 126;
-                if (taken && length < TAPE) {
+                boolean belongs = sign == 10 || sign >= 32 && sign <= 126;
+                if (belongs && length < TAPE) {
                     tape[length] = (char) sign;
                     length++;
                 }

@@ -12,17 +12,20 @@ public final class RandomRunsTest {
     private final Check check = new Check();
     private LandSurvey quick;
     private SlowSurvey slow;
+    private final int mostSights;
     private int width;
     private int depthSpan;
 
-    private RandomRunsTest(long seed) {
+    private RandomRunsTest(long seed, int mostSights) {
         random = new Random(seed);
+        this.mostSights = mostSights;
     }
 
     public static void main(String[] args) {
         int runs = args.length > 0 ? Integer.parseInt(args[0]) : 60;
         long seed = args.length > 1 ? Long.parseLong(args[1]) : 7;
-        RandomRunsTest all = new RandomRunsTest(seed);
+        int mostSights = args.length > 2 ? Integer.parseInt(args[2]) : 12;
+        RandomRunsTest all = new RandomRunsTest(seed, mostSights);
         for (int n = 0; n < runs; n++) {
             all.run();
         }
@@ -55,7 +58,7 @@ public final class RandomRunsTest {
         width = new int[] {2, 3, 5, 12}[below(4)];
         depthSpan = new int[] {20, 80, 300, 999}[below(4)];
         tellRules();
-        int tells = from(5, 25);
+        int tells = from(5, 2 * mostSights + 1);
         for (int n = 0; n < tells; n++) {
             tell();
         }
@@ -195,7 +198,7 @@ public final class RandomRunsTest {
     }
 
     private void tellSight() {
-        if (quick.count(2) >= 12) {
+        if (quick.count(2) >= mostSights) {
             return;
         }
         int kind = often() ? below(5) : from(-1, 5);
