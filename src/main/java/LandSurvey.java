@@ -1820,18 +1820,20 @@ public final class LandSurvey {
             return true;
         }
 
+        /** Any fact within four others is one too many; a token that is none can't stand there at all. */
         private boolean readFact(int depth) {
-            if (kind == NUMBER || word != null && word.fact != NONE) {
-                emit(kind == NUMBER ? (int) value : -1 - word.fact);
-                advance();
-                return true;
-            }
+            boolean plain = kind == NUMBER || word != null && word.fact != NONE;
             boolean negated = word == Word.NOT;
-            if (!negated && !isNext('(')) {
+            if (!plain && !negated && !isNext('(')) {
                 return wrong(MISPLACED);
             }
             if (depth >= NESTED) {
                 return wrong(TOO_MANY);
+            }
+            if (plain) {
+                emit(kind == NUMBER ? (int) value : -1 - word.fact);
+                advance();
+                return true;
             }
             advance();
             if (negated) {

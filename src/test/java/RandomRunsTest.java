@@ -6,7 +6,8 @@ public final class RandomRunsTest {
     private static final int THROWN = Integer.MIN_VALUE;
     private static final String[] TESTS = {"1", "colour = 1", "colour < 3 and grain < 5", "kind = 1 or kind = 2",
         "not hard", "height < 500", "depth + 10 < 60", "hand = 2 or fizz", "( colour = 2 or colour = 3 ) and not ( grain < 2 )",
-        "agree = 1000", "apart < 500", "same = 1000", "kept = 1", "kept < 3 and agree < 500", "0", "colour - grain < 0 - 1"};
+        "agree = 1000", "apart < 500", "same = 1000", "kept = 1", "kept < 3 and agree < 500", "0", "colour - grain < 0 - 1",
+        "not ( not colour < hand )", "( ( ( grain ) - 3 ) < hard )", "not not not fizz", "( ( kind < 2 and ( hand < 2 ) ) or not hard )"};
 
     private final Random random;
     private final Check check = new Check();
@@ -113,7 +114,7 @@ public final class RandomRunsTest {
     }
 
     private String spoilt(StringBuilder text) {
-        String[] bits = {" ", "(", ")", "a", "not ", "9", "rock", ";", "to", "=", "A", "and", "from"};
+        String[] bits = {" ", "(", ")", "a", "not ", "not not ", "((((", "9", "rock", ";", "to", "=", "A", "and", "from"};
         int at = below(text.length());
         if (below(2) == 0) {
             text.deleteCharAt(at);

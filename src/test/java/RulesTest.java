@@ -189,16 +189,60 @@ public final class RulesTest {
         well(some + "steep 5; holds a;");
     }
 
+    /** Any number of others, each a not or a ( ) as the bits of mix say, round the text. */
+    private static String within(int others, int mix, String text) {
+        StringBuilder opened = new StringBuilder();
+        StringBuilder closed = new StringBuilder();
+        for (int n = 0; n < others; n++) {
+            boolean negated = (mix >> n & 1) != 0;
+            opened.append(negated ? "not " : "(");
+            closed.append(negated ? "" : ")");
+        }
+        return opened + text + closed;
+    }
+
     private static void nesting() {
-        well("rank 5 when ((((1))));");
-        well("rank 5 when not not not not 1;");
-        well("rank 5 when not(not(1)) + ((((2)))) and not (not 1) ;");
+        String[] facts = {"0", "9999", "colour", "grain", "hard", "fizz", "kind", "hand", "depth", "height", "agree", "apart",
+            "same", "kept"};
+        String[] others = {";", ")", "and", "to", "when", "a", "<", "+", "*", "12345", "abcdefghi", "A"};
+        for (int mix = 0; mix < 16; mix++) {
+            for (String fact : facts) {
+                well("rank 5 when " + within(mix & 3, mix, fact) + ";");
+                well("rank 5 when " + within(3, mix, fact) + ";");
+                faulty(5, "rank 5 when " + within(4, mix, "|" + fact) + ";");
+            }
+            faulty(5, "rank 5 when " + within(4, mix, "|not 1") + ";");
+            faulty(5, "rank 5 when " + within(4, mix, "|(1)") + ";");
+            for (String other : others) {
+                faulty(1, "rank 5 when " + within(4, mix, "|" + other) + ";");
+            }
+            faulty(1, "rank 5 when " + within(4, mix | 15, "") + "|");
+        }
+        faulty(1, "rank 5 when ((((  |");
+        nestingBesideOthers();
+    }
+
+    /** What stands beside a fact is no other that it stands within. */
+    private static void nestingBesideOthers() {
+        well("rank 5 when not(not 1) + (((2))) and not (not 1) or not not not 3 - (((4))) ;");
+        well("rank 5 when (((1) + (2) < (3) - not 4) and (not 5 = (6) or (7)));");
         faulty(5, "rank 5 when ((((|(1)))));");
-        faulty(5, "rank 5 when not not not not |not 1;");
+        faulty(5, "rank 5 when ((((|1 + ;");
         faulty(5, "rank 5 when not ( not ( |not 1 ) ) ;");
+        faulty(5, "rank 5 when (((1 + not |2)));");
+        faulty(5, "rank 5 when (((1))) < (((2 - (|3))));");
         faulty(5, "rank 5 when ( ( 1 ) and not ( not |( 1 ) ) ) ;");
-        faulty(1, "rank 5 when ((((|))));");
-        faulty(1, "rank 5 when not not not not |and;");
+        faulty(5, "rank 5 when not(not(|1)) ;");
+        faulty(5, "rank 5 when 1 and 2 or ( 1 = not ( not |fizz ) ) ;");
+        faulty(5, "rank 5 when 1 and 2 or ( ( 1 = not ( |not fizz ) ) ) ;");
+        faulty(1, "rank 5 when (((1 |(2))));");
+        faulty(4, "rank |0 when ((((1))));");
+        LandSurvey x = Check.with("rock a 0 to 0; name a when not not not 0; rank 7 when (((1)));");
+        x.sight(2, 0, 0, 0, 0, 0);
+        CHECK.same("a fact within four", Check.rules(x, "rock b 0 to 0; rock c 0 to 0; name c when ((((1))));"), 5 + 16 * 46);
+        CHECK.same("such rules are not in force", x.count(4), 1);
+        CHECK.same("such rules are not in force", x.look(0, 0), 0);
+        CHECK.same("such rules are not in force", x.look(0, 1), 7);
     }
 
     private static void reserved() {

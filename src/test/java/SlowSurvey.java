@@ -451,22 +451,21 @@ final class SlowSurvey {
 
     private Expr fact(int depth) {
         Token t = peek();
-        if (t.kind == 'n') {
-            at++;
-            int n = Integer.parseInt(t.text);
-            return f -> n;
-        }
-        if (t.kind == 'w' && TELLING.contains(t.text)) {
-            at++;
-            return f -> f.getOrDefault(t.text, 0);
-        }
-        if (!t.text.equals("not") && !t.text.equals("(")) {
+        boolean tells = t.kind == 'w' && TELLING.contains(t.text);
+        if (t.kind != 'n' && !tells && !t.text.equals("not") && !t.text.equals("(")) {
             throw bad(1);
         }
         if (depth == 4) {
             throw bad(5);
         }
         at++;
+        if (t.kind == 'n') {
+            int n = Integer.parseInt(t.text);
+            return f -> n;
+        }
+        if (tells) {
+            return f -> f.getOrDefault(t.text, 0);
+        }
         if (t.text.equals("not")) {
             Expr a = fact(depth + 1);
             return f -> bit(a.tell(f) == 0);
