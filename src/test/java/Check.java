@@ -2,6 +2,7 @@ import java.util.NoSuchElementException;
 
 /** Counts what is not as due, and tells the rules of a text to a survey by feed. */
 final class Check {
+    private String heading = "";
     private int wrong;
     private int asked;
 
@@ -9,11 +10,20 @@ final class Check {
         int answer();
     }
 
+    /** What stands ahead of each wrong answer from here on. */
+    void head(String text) {
+        heading = text;
+    }
+
+    int asked() {
+        return asked;
+    }
+
     void same(String what, long got, long due) {
         asked++;
         if (got != due) {
             wrong++;
-            System.out.println(what + " answered " + got + ", due is " + due);
+            System.out.println(heading + what + " answered " + got + ", due is " + due);
         }
     }
 
