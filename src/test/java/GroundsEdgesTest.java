@@ -46,6 +46,7 @@ public final class GroundsEdgesTest {
     private static void neighbours() {
         DOC.test(GROUNDS, "Between neighbours the BASE changes by steep at most either way", GroundsEdgesTest::steepAtMost);
         DOC.test(GROUNDS, "as all of these say, steep or not", GroundsEdgesTest::asAllDipsSay);
+        DOC.test(GROUNDS, "as all of these say, steep or not", GroundsEdgesTest::dipsUpAStair);
         DOC.test(GROUNDS, "if SIGHTS that are not doubted say a DIP of the two", GroundsEdgesTest::dipsOfDoubted);
         DOC.test(GROUNDS, "as its throw says, alone (of several the least BREAK)", GroundsEdgesTest::throwAlone);
         DOC.test(GROUNDS, "as its throw says, alone (of several the least BREAK)", GroundsEdgesTest::leastOfSeveral);
@@ -416,6 +417,35 @@ public final class GroundsEdgesTest {
         CHECK.same("told from either cell", either.best(2), 0);
         either.cell(5, 4, 513, true);
         CHECK.same("told from either cell, one more", either.best(2), 1);
+    }
+
+    /** From one corner to another by turns: each step binds the next cell, so one end is known by the other. */
+    private static void dipsUpAStair() {
+        int[][] corners = {{0, 7, 1, -1}, {7, 0, -1, 1}, {0, 0, 1, 1}, {7, 7, -1, -1}};
+        for (int[] corner : corners) {
+            LandSurvey x = Check.with(tenRocks("0 to 200") + "name a when colour = 0; name j when 1; steep 99;");
+            int column = corner[0];
+            int line = corner[1];
+            for (int step = 0; step < 14; step++) {
+                x.sight(2, column, line, 0, 0, 0);
+                boolean aside = step % 2 == 0;
+                x.dip(step, aside ? (corner[2] < 0 ? 0 : 1) : (corner[3] < 0 ? 2 : 3), step - 7, 0);
+                column += aside ? corner[2] : 0;
+                line += aside ? 0 : corner[3];
+            }
+            x.place(corner[0], corner[1], 1);
+            x.question(column, line, true);
+            x.sight(2, corner[0], corner[1], 0, 1, 9000);
+            CHECK.same("nothing is doubted", x.best(1), 0);
+            span(x, 0, corner[0], corner[1], 300, 500);
+            span(x, 0, column, line, 293, 493);
+            CHECK.same("all is left open", x.doubt(), 200);
+            CHECK.same("nothing is left by a bore", x.left(0), 0);
+            x.sight(2, corner[0], corner[1], 200, 1, 9000);
+            span(x, 0, corner[0], corner[1], 300, 300);
+            span(x, 0, column, line, 293, 293);
+            CHECK.same("nothing is open", x.doubt(), 0);
+        }
     }
 
     private static void dipsOfDoubted() {

@@ -75,65 +75,83 @@ final class LandAtWork {
     /** All that a land tells, within 220 calls. */
     static List<Integer> seen(LandSurvey x) {
         List<Integer> all = new ArrayList<>();
+        for (Check.Call question : questions(x)) {
+            all.add(answer(question));
+        }
+        return all;
+    }
+
+    static List<Check.Call> questions(LandSurvey x) {
+        List<Check.Call> all = new ArrayList<>();
         for (int what = 0; what <= 12; what++) {
-            all.add(x.count(what));
+            int asked = what;
+            all.add(() -> x.count(asked));
         }
         for (int k = 0; k <= SIGHTS; k++) {
             for (int what = 0; what < 8; what++) {
                 int sight = k;
                 int asked = what;
-                all.add(answer(() -> x.look(sight, asked)));
+                all.add(() -> x.look(sight, asked));
             }
         }
-        for (int set = 0; set <= SETS; set++) {
-            all.add(x.cost(set));
-            all.add(x.kept(set));
-            all.add(x.doubted(set, 0));
-            all.add(x.doubted(set, 1));
-        }
-        for (int what = 0; what < 4; what++) {
-            all.add(x.best(what));
-        }
-        seenUnderCells(x, all);
-        seenOfTheRest(x, all);
+        ofGrounds(x, all);
+        underCells(x, all);
+        ofTheRest(x, all);
         return all;
     }
 
-    private static void seenUnderCells(LandSurvey x, List<Integer> all) {
-        for (int n = 0; n < 5; n++) {
-            int column = n * 11 / 4;
-            int line = n * 7 / 4;
-            for (int what = 0; what < 2; what++) {
-                int asked = what;
-                all.add(answer(() -> x.base(0, column, line, asked)));
-                all.add(answer(() -> x.deep(column, line, 1, asked)));
-                all.add(x.water(column, line, what));
-                all.add(x.lies(column, line, 40 * what));
-            }
-            all.add(x.line(column, line, n < 4 ? 1 : 0));
+    private static void ofGrounds(LandSurvey x, List<Check.Call> all) {
+        for (int n = 0; n <= SETS; n++) {
+            int set = n;
+            all.add(() -> x.cost(set));
+            all.add(() -> x.kept(set));
+            all.add(() -> x.doubted(set, 0));
+            all.add(() -> x.doubted(set, 1));
+            all.add(() -> x.base(set, 9, 1, 0));
+            all.add(() -> x.base(set, 9, 1, 1));
         }
-        for (int owner = 0; owner < 4; owner++) {
-            all.add(x.seam(0, owner, 0));
-            all.add(x.seam(2, owner, 1));
+        for (int n = 0; n < 4; n++) {
+            int what = n;
+            all.add(() -> x.best(what));
         }
     }
 
-    private static void seenOfTheRest(LandSurvey x, List<Integer> all) {
-        for (int sheet = 0; sheet < 3; sheet++) {
-            all.add(x.drawn(sheet, 0, 0));
-            all.add(x.drawn(sheet, 4, 4));
-            all.add(x.stale(sheet));
-            all.add(x.quarrel(0, sheet));
+    private static void underCells(LandSurvey x, List<Check.Call> all) {
+        for (int n = 0; n < 5; n++) {
+            int column = n * 11 / 4;
+            int line = n * 7 / 4;
+            int where = n < 4 ? 1 : 0;
+            for (int k = 0; k < 2; k++) {
+                int what = k;
+                all.add(() -> x.base(0, column, line, what));
+                all.add(() -> x.deep(column, line, 1, what));
+                all.add(() -> x.water(column, line, what));
+                all.add(() -> x.lies(column, line, 40 * what));
+            }
+            all.add(() -> x.line(column, line, where));
         }
-        for (int hand = 0; hand < 6; hand++) {
-            int asked = hand;
-            all.add(answer(() -> x.habit(asked)));
-            all.add(x.doubles(hand, (hand + 1) % 6, 0));
+        for (int n = 0; n < 4; n++) {
+            int owner = n;
+            all.add(() -> x.seam(0, owner, 0));
+            all.add(() -> x.seam(2, owner, 1));
         }
-        for (int place = 0; place < 3; place++) {
-            all.add(x.left(place));
+    }
+
+    private static void ofTheRest(LandSurvey x, List<Check.Call> all) {
+        for (int n = 0; n < 3; n++) {
+            int number = n;
+            all.add(() -> x.drawn(number, 0, 0));
+            all.add(() -> x.drawn(number, 4, 4));
+            all.add(() -> x.stale(number));
+            all.add(() -> x.quarrel(0, number));
+            all.add(() -> x.left(number));
         }
-        all.add(x.doubt());
-        all.add(x.next());
+        for (int n = 0; n < 6; n++) {
+            int hand = n;
+            all.add(() -> x.habit(hand));
+            all.add(() -> x.doubles(hand, (hand + 1) % 6, 0));
+        }
+        all.add(x::doubt);
+        all.add(x::next);
     }
 }

@@ -24,6 +24,7 @@ public final class RefusedCallsTest {
         sheets();
         plans();
         counts();
+        DOC.test("What it is", "An object is used for at most 512 calls after it has been made", RefusedCallsTest::fullLand);
         DOC.end();
     }
 
@@ -442,6 +443,53 @@ public final class RefusedCallsTest {
             x.question(8, 6, false);
             CHECK.same("nothing is above 0", x.next(), NONE);
         });
+    }
+
+    /** All that a land holds, told in 509 calls; the last three of the 512 are asked of it. */
+    private static void fullLand() {
+        LandSurvey x = new LandSurvey();
+        int calls = 0;
+        for (int n = 0; n < 8; n++) {
+            x.days(n == 0 ? 0 : 1);
+            Check.feed(x, "rock a 0 to 9;name a when 1;steep 9;");
+            calls += 1 + 1 + 2 + 1;
+            CHECK.same("rules of day " + n, x.rules(), 0);
+        }
+        for (int k = 0; k < 40; k++) {
+            x.sight(2, k % 12, k / 12, 100, k % 6, 0);
+            x.dip(k, 1, 0, 9);
+            x.remain(k, k % 10, false);
+            calls += 3;
+        }
+        for (int k = 0; k < 4; k++) {
+            x.fault(k, 0, true, 8, -9, 9, 99);
+            calls++;
+        }
+        for (int k = 0; k < 10; k++) {
+            x.sheet(0, 0, 11, 7);
+            x.question(k, 7, true);
+            x.place(k, 6, 99);
+            calls += 3;
+        }
+        for (int cell = 0; cell < 96; cell++) {
+            x.own(cell % 12, cell / 12, 3);
+            x.cell(cell % 12, cell / 12, 600, false);
+            calls += 2;
+        }
+        Check.feed(x, " ".repeat(1490));
+        calls += 1 + 63;
+        for (; calls < 496; calls++) {
+            CHECK.same("now", x.count(0), 7);
+        }
+        int[] due = {7, 7, 40, 40, 1, 4, 10, 0, 8, 1490, 96, 8, 8};
+        for (int what = 0; what < due.length; what++) {
+            CHECK.same("count " + what, x.count(what), due[what]);
+            calls++;
+        }
+        CHECK.same("calls so far", calls, 509);
+        CHECK.same("the seam under all", x.seam(0, 3, 1), 96 * 9);
+        CHECK.same("all are kept", x.best(1), 0);
+        CHECK.same("the last of 512", x.stale(9), 0);
     }
 
     private static void counts() {

@@ -294,6 +294,13 @@ public final class RulesEdgesTest {
         faulty(1, "|" + "a".repeat(TAPE));
         faulty(1, "|" + "1".repeat(TAPE));
         faulty(1, "steep |" + "1".repeat(TAPE - 6));
+        // numbers that are too long, but worth as much as the signs ( + - < = ;
+        faulty(1, "rank 5 when |00040 1 );");
+        faulty(1, "rank 5 when 1 |00043 1;");
+        faulty(1, "rank 5 when 1 |00045 1;");
+        faulty(1, "rank 5 when 1 |00060 1;");
+        faulty(1, "rank 5 when 1 |00061 1;");
+        faulty(1, "steep 5 |00059");
         // the end of a word of eight letters and of a number of four is no sign of the next one
         well("rank 0005when 1;rock abcdefgh0000to0001;");
     }
@@ -698,6 +705,8 @@ public final class RulesEdgesTest {
         faulty(2, "name\n|a");
         faulty(2, "rock aa 0 to 0; rock aaaa 0 to 0; name |aaa when 1;");
         faulty(2, "rock a 0 to 0; name |abcdefgh when 1;");
+        faulty(2, rocks(10) + "name |k when 1;");
+        faulty(2, rocks(10) + "remain 0 from j to |k;");
     }
 
     private static void toldAgain() {
@@ -795,6 +804,16 @@ public final class RulesEdgesTest {
             CHECK.same("any number of times", Check.rules(x, "rock a 0 to 0; rock b 0 to 0;"), 0);
         }
         CHECK.same("of one day", x.count(8), 1);
+        CHECK.same("with a line", Check.rules(x, "rock a 0 to 0; rock b 0 to 0; rank 5 when 0; name b when 0; name a when 1;"), 0);
+        CHECK.same("by that line", x.look(0, 0), 0);
+        CHECK.same("by no line of those ahead", x.look(0, 1), 10);
+        CHECK.same("with another line", Check.rules(x, "rock a 0 to 0; rock b 0 to 0; name b when 2 - 1; rank 8 when 1;"), 0);
+        CHECK.same("by the other line", x.look(0, 0), 1);
+        CHECK.same("by the other line", x.look(0, 1), 8);
+        CHECK.same("a fault behind a line", Check.rules(x, "rank 7 when 0; *"), 1 + 16 * 15);
+        CHECK.same("as they were", x.look(0, 1), 8);
+        CHECK.same("without that line", Check.rules(x, "rock a 0 to 0; rock b 0 to 0; rank 9 when 1;"), 0);
+        CHECK.same("by the new one", x.look(0, 1), 9);
         x.days(1);
         CHECK.same("on another day", Check.rules(x, "rock a 0 to 0;"), 0);
         CHECK.same("of two days", x.count(8), 2);
@@ -925,6 +944,10 @@ public final class RulesEdgesTest {
             CHECK.same(fact, rockBy(fact), -1);
             CHECK.same(fact + " = 0", rockBy(fact + " = 0"), 0);
         }
+        LandSurvey x = Check.with("rock a 0 to 0; name a when agree or apart or same or kept;");
+        CHECK.same("a line is asked", x.line(0, 0, 1), 1);
+        x.sight(2, 0, 0, 0, 0, 0);
+        CHECK.same("0 all the same", x.look(0, 0), -1);
     }
 
     private static void negated() {

@@ -47,6 +47,7 @@ final class Sentences {
 
     private String part(String where) {
         switch (where) {
+            case "What it is": return between("## What it is", "## The public face");
             case "Terms": return between("## Terms", "==== 2.");
             case "2 RULES": return between("==== 2.", "==== 3.");
             case "3 GROUNDS": return between("==== 3.", "==== 4.");

@@ -40,6 +40,7 @@ public final class SheetsEdgesTest {
         DOC.test(SHEETS, "PLACES: CELLS, 8 at most, each with a cost (1 to 99)", SheetsEdgesTest::placeCosts);
         DOC.test(SHEETS, "the sum over QUESTIONS of HIGH - LOW in THE BEST", SheetsEdgesTest::doubtOfTheBest);
         DOC.test(SHEETS, "how much higher the BASE can be there than here by what THE BEST says of neighbours", SheetsEdgesTest::ways);
+        DOC.test(SHEETS, "how much higher the BASE can be there than here by what THE BEST says of neighbours", SheetsEdgesTest::waysOfTheBest);
         DOC.test(SHEETS, "for v of LOW, HIGH, and (LOW + HIGH) / 2, cut downwards, of the PLACE", SheetsEdgesTest::cutDownwards);
         DOC.test(SHEETS, "for v of LOW, HIGH, and (LOW + HIGH) / 2, cut downwards, of the PLACE", SheetsEdgesTest::lowOrHigh);
         DOC.test(SHEETS, "the PLACE with the greatest (DOUBT - LEFT) / cost as a fraction", SheetsEdgesTest::fractions);
@@ -413,6 +414,24 @@ public final class SheetsEdgesTest {
         y.question(4, 4, true);
         y.place(6, 4, 1);
         CHECK.same("the other way", y.left(1), 10);
+    }
+
+    /** The one place is beyond a break of another ground, the other is dearer: whatever was asked of that ground. */
+    private static void waysOfTheBest() {
+        LandSurvey x = Check.with("rock a 0 to 100; name a when 1; steep 0;");
+        x.sight(2, 4, 4, 0, 0, 0);
+        x.question(4, 4, true);
+        x.place(6, 4, 1);
+        x.place(3, 4, 2);
+        x.fault(4, 0, true, 8, -300, 300, 1);
+        CHECK.same("next", x.next(), 0);
+        CHECK.same("another ground", x.base(1, 6, 4, 1), 800);
+        CHECK.same("next behind that", x.next(), 0);
+        CHECK.same("another ground", x.base(1, 6, 4, 0), 100);
+        CHECK.same("left behind that", x.left(0), 0);
+        x.rivalry(9);
+        CHECK.same("by both", x.lies(6, 4, 0), 3073);
+        CHECK.same("next by the best alone", x.next(), 0);
     }
 
     /** A place with the base from low to high beside a question with -7 to 3, five either way between them. */
