@@ -20,9 +20,9 @@ public final class CallEdgesTest {
     }
 
     public static void main(String[] args) {
-        DOC.test("Promise 1", "No SIGHT, no RULES, no BREAK; NOW is 0", CallEdgesTest::newObject);
-        DOC.test("Promise 1", "No SIGHT, no RULES, no BREAK; NOW is 0", CallEdgesTest::objectsApart);
-        DOC.test("Promise 1", "No SIGHT, no RULES, no BREAK; NOW is 0", CallEdgesTest::landAtWorkIsAsMeant);
+        DOC.test(1, "No SIGHT, no RULES, no BREAK; NOW is 0", CallEdgesTest::newObject);
+        DOC.test(1, "No SIGHT, no RULES, no BREAK; NOW is 0", CallEdgesTest::objectsApart);
+        DOC.test(1, "No SIGHT, no RULES, no BREAK; NOW is 0", CallEdgesTest::landAtWorkIsAsMeant);
         told();
         toldOfSights();
         toldOfBreaks();
@@ -100,7 +100,7 @@ public final class CallEdgesTest {
 
     /** The number at an index of the call: taken from .. to, refused with all others, which change nothing. */
     private static void range(int promise, String sentence, Call call, int refused, int[] usual, int index, int from, int to) {
-        DOC.test("Promise " + promise, sentence, () -> {
+        DOC.test(promise, sentence, () -> {
             int step = to - from <= 24 ? 1 : (to - from) / 8;
             for (int number = from; number <= to; number += step) {
                 CHECK.no("number " + index + " is taken: " + number,

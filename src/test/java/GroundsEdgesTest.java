@@ -22,82 +22,82 @@ public final class GroundsEdgesTest {
     }
 
     private static void saidBySights() {
-        DOC.test(GROUNDS, "the oldest lowest (the youngest, where it is turned over)", GroundsEdgesTest::orders);
-        DOC.test(GROUNDS, "on the BASE (a height of any sign)", GroundsEdgesTest::anySign);
-        DOC.test(GROUNDS, "the sums of the least, the greatest thickness of all that lie below it there", GroundsEdgesTest::underEach);
-        DOC.test(GROUNDS, "the BASE is at least z - UNDER HIGH - the ROCK's greatest thickness, at most z - UNDER LOW",
+        DOC.test(15, GROUNDS, "the oldest lowest (the youngest, where it is turned over)", GroundsEdgesTest::orders);
+        DOC.test(20, GROUNDS, "on the BASE (a height of any sign)", GroundsEdgesTest::anySign);
+        DOC.test(15, GROUNDS, "the sums of the least, the greatest thickness of all that lie below it there", GroundsEdgesTest::underEach);
+        DOC.test(15, GROUNDS, "the BASE is at least z - UNDER HIGH - the ROCK's greatest thickness, at most z - UNDER LOW",
             GroundsEdgesTest::furthestBounds);
-        DOC.test(GROUNDS, "of kind 1 at least so much less drift, at most so much and drift", GroundsEdgesTest::driftOfLooseAlone);
-        DOC.test(GROUNDS, "A SIGHT (in THE VIEW, with a ROCK; others say nothing)", GroundsEdgesTest::othersSayNothing);
-        DOC.test(GROUNDS, "Its DIP says what it says, if the neighbour is on THE LAND", GroundsEdgesTest::dipsOffTheLand);
+        DOC.test(15, GROUNDS, "of kind 1 at least so much less drift, at most so much and drift", GroundsEdgesTest::driftOfLooseAlone);
+        DOC.test(15, GROUNDS, "A SIGHT (in THE VIEW, with a ROCK; others say nothing)", GroundsEdgesTest::othersSayNothing);
+        DOC.test(8, GROUNDS, "Its DIP says what it says, if the neighbour is on THE LAND", GroundsEdgesTest::dipsOffTheLand);
     }
 
     private static void breaks() {
-        DOC.test(GROUNDS, "BREAKS, 4 at most", GroundsEdgesTest::fourBreaks);
-        DOC.test(GROUNDS, "a line of 1 to 12 SIDES from a CELL on", GroundsEdgesTest::numbersOfSides);
-        DOC.test(GROUNDS, "across: the sides below that CELL and those to the right of it", () -> sidesOf(false));
-        DOC.test(GROUNDS, "down: the sides to the right of that CELL and those below it", () -> sidesOf(true));
-        DOC.test(GROUNDS, "as far as THE LAND goes (all of its SIDES must be between two CELLS)", GroundsEdgesTest::sidesOnTheLand);
-        DOC.test(GROUNDS, "a throw from .. to (-300 to 300)", GroundsEdgesTest::throwNumbers);
-        DOC.test(GROUNDS, "beyond each of its SIDES (below, to the right) the BASE is so much higher", GroundsEdgesTest::higherBeyond);
-        DOC.test(GROUNDS, "a cost (1 to 99)", GroundsEdgesTest::breakCosts);
+        DOC.test(13, GROUNDS, "BREAKS, 4 at most", GroundsEdgesTest::fourBreaks);
+        DOC.test(13, GROUNDS, "a line of 1 to 12 SIDES from a CELL on", GroundsEdgesTest::numbersOfSides);
+        DOC.test(13, GROUNDS, "across: the sides below that CELL and those to the right of it", () -> sidesOf(false));
+        DOC.test(13, GROUNDS, "down: the sides to the right of that CELL and those below it", () -> sidesOf(true));
+        DOC.test(13, GROUNDS, "as far as THE LAND goes (all of its SIDES must be between two CELLS)", GroundsEdgesTest::sidesOnTheLand);
+        DOC.test(13, GROUNDS, "a throw from .. to (-300 to 300)", GroundsEdgesTest::throwNumbers);
+        DOC.test(13, GROUNDS, "beyond each of its SIDES (below, to the right) the BASE is so much higher", GroundsEdgesTest::higherBeyond);
+        DOC.test(13, GROUNDS, "a cost (1 to 99)", GroundsEdgesTest::breakCosts);
     }
 
     private static void neighbours() {
-        DOC.test(GROUNDS, "Between neighbours the BASE changes by steep at most either way", GroundsEdgesTest::steepAtMost);
-        DOC.test(GROUNDS, "as all of these say, steep or not", GroundsEdgesTest::asAllDipsSay);
-        DOC.test(GROUNDS, "as all of these say, steep or not", GroundsEdgesTest::dipsUpAStair);
-        DOC.test(GROUNDS, "if SIGHTS that are not doubted say a DIP of the two", GroundsEdgesTest::dipsOfDoubted);
-        DOC.test(GROUNDS, "as its throw says, alone (of several the least BREAK)", GroundsEdgesTest::throwAlone);
-        DOC.test(GROUNDS, "as its throw says, alone (of several the least BREAK)", GroundsEdgesTest::leastOfSeveral);
-        DOC.test(GROUNDS, "But if a BREAK in use has the SIDE", GroundsEdgesTest::breaksNotInUse);
+        DOC.test(20, GROUNDS, "Between neighbours the BASE changes by steep at most either way", GroundsEdgesTest::steepAtMost);
+        DOC.test(20, GROUNDS, "as all of these say, steep or not", GroundsEdgesTest::asAllDipsSay);
+        DOC.test(20, GROUNDS, "as all of these say, steep or not", GroundsEdgesTest::dipsUpAStair);
+        DOC.test(17, GROUNDS, "if SIGHTS that are not doubted say a DIP of the two", GroundsEdgesTest::dipsOfDoubted);
+        DOC.test(20, GROUNDS, "as its throw says, alone (of several the least BREAK)", GroundsEdgesTest::throwAlone);
+        DOC.test(20, GROUNDS, "as its throw says, alone (of several the least BREAK)", GroundsEdgesTest::leastOfSeveral);
+        DOC.test(20, GROUNDS, "But if a BREAK in use has the SIDE", GroundsEdgesTest::breaksNotInUse);
     }
 
     private static void grounds() {
-        DOC.test(GROUNDS, "a set of 3 SIGHTS at most that are doubted", GroundsEdgesTest::threeDoubted);
-        DOC.test(GROUNDS, "a set of 3 SIGHTS at most that are doubted", GroundsEdgesTest::fourToDoubt);
-        DOC.test(GROUNDS, "the costs of its BREAKS and the WORTHS of its SIGHTS doubted", GroundsEdgesTest::greatestCost);
-        DOC.test(GROUNDS, "of equal ones that with the least set of SIGHTS (as a number, SIGHT k being 2 to the k)",
+        DOC.test(17, GROUNDS, "a set of 3 SIGHTS at most that are doubted", GroundsEdgesTest::threeDoubted);
+        DOC.test(16, GROUNDS, "a set of 3 SIGHTS at most that are doubted", GroundsEdgesTest::fourToDoubt);
+        DOC.test(16, GROUNDS, "the costs of its BREAKS and the WORTHS of its SIGHTS doubted", GroundsEdgesTest::greatestCost);
+        DOC.test(17, GROUNDS, "of equal ones that with the least set of SIGHTS (as a number, SIGHT k being 2 to the k)",
             GroundsEdgesTest::leastSetOfSights);
-        DOC.test(GROUNDS, "some have none", GroundsEdgesTest::someHaveNone);
-        DOC.test(GROUNDS, "(SIGHTS that say nothing are not doubted.)", GroundsEdgesTest::silentAreNotDoubted);
-        DOC.test(GROUNDS, "of equal ones with the least set of BREAKS (as a number)", GroundsEdgesTest::leastSetOfBreaks);
-        DOC.test(GROUNDS, "KEPT are all GROUNDS whose COST is at most RIVALRY (0 to 999; 0 at first) above that", GroundsEdgesTest::rivals);
-        DOC.test(GROUNDS, "KEPT are all GROUNDS whose COST is at most RIVALRY (0 to 999; 0 at first) above that", GroundsEdgesTest::rivalries);
-        DOC.test(GROUNDS, "unknown if no SIGHT that is not doubted says anything of a BASE", GroundsEdgesTest::unknownBase);
-        DOC.test(GROUNDS, "(a DIP alone does not)", GroundsEdgesTest::dipAlone);
+        DOC.test(16, GROUNDS, "some have none", GroundsEdgesTest::someHaveNone);
+        DOC.test(17, GROUNDS, "(SIGHTS that say nothing are not doubted.)", GroundsEdgesTest::silentAreNotDoubted);
+        DOC.test(18, GROUNDS, "of equal ones with the least set of BREAKS (as a number)", GroundsEdgesTest::leastSetOfBreaks);
+        DOC.test(19, GROUNDS, "KEPT are all GROUNDS whose COST is at most RIVALRY (0 to 999; 0 at first) above that", GroundsEdgesTest::rivals);
+        DOC.test(14, GROUNDS, "KEPT are all GROUNDS whose COST is at most RIVALRY (0 to 999; 0 at first) above that", GroundsEdgesTest::rivalries);
+        DOC.test(20, GROUNDS, "unknown if no SIGHT that is not doubted says anything of a BASE", GroundsEdgesTest::unknownBase);
+        DOC.test(20, GROUNDS, "(a DIP alone does not)", GroundsEdgesTest::dipAlone);
     }
 
     private static void mayLie() {
-        DOC.test(GROUNDS, "a rock with some BASE from LOW to HIGH for which it lies there (as a SIGHT of kind 2 says)",
+        DOC.test(21, GROUNDS, "a rock with some BASE from LOW to HIGH for which it lies there (as a SIGHT of kind 2 says)",
             GroundsEdgesTest::rocksThatMayLie);
-        DOC.test(GROUNDS, "bit 10: below all: HIGH above z", GroundsEdgesTest::belowAll);
-        DOC.test(GROUNDS, "bit 11: above all: z above LOW and the sum of all least thicknesses", GroundsEdgesTest::aboveAll);
-        DOC.test(GROUNDS, "By all KEPT: all bits of these", GroundsEdgesTest::bitsOfAllKept);
-        DOC.test(GROUNDS, "(Unknown: all rocks and both.)", GroundsEdgesTest::unknownBits);
+        DOC.test(21, GROUNDS, "bit 10: below all: HIGH above z", GroundsEdgesTest::belowAll);
+        DOC.test(21, GROUNDS, "bit 11: above all: z above LOW and the sum of all least thicknesses", GroundsEdgesTest::aboveAll);
+        DOC.test(21, GROUNDS, "By all KEPT: all bits of these", GroundsEdgesTest::bitsOfAllKept);
+        DOC.test(21, GROUNDS, "(Unknown: all rocks and both.)", GroundsEdgesTest::unknownBits);
     }
 
     private static void lines() {
-        DOC.test(GROUNDS, "agree: of 1000 KEPT, cut, how many have both one bit, others", GroundsEdgesTest::agree);
-        DOC.test(GROUNDS, "apart: how many have nothing in common in them", GroundsEdgesTest::apart);
-        DOC.test(GROUNDS, "same: how many have both one bit, the same", GroundsEdgesTest::same);
-        DOC.test(GROUNDS, "kept: how many are KEPT", GroundsEdgesTest::keptFact);
-        DOC.test(GROUNDS, "As the first draw line says whose E is not 0 (all other facts 0): 3 full, 2 broken, 1 dotted",
+        DOC.test(22, GROUNDS, "agree: of 1000 KEPT, cut, how many have both one bit, others", GroundsEdgesTest::agree);
+        DOC.test(22, GROUNDS, "apart: how many have nothing in common in them", GroundsEdgesTest::apart);
+        DOC.test(22, GROUNDS, "same: how many have both one bit, the same", GroundsEdgesTest::same);
+        DOC.test(22, GROUNDS, "kept: how many are KEPT", GroundsEdgesTest::keptFact);
+        DOC.test(22, GROUNDS, "As the first draw line says whose E is not 0 (all other facts 0): 3 full, 2 broken, 1 dotted",
             GroundsEdgesTest::drawLines);
-        DOC.test(GROUNDS, "without such a one: 3 if agree is 1000, else 2 if apart is, else 0 (no line) if same is, else 1",
+        DOC.test(22, GROUNDS, "without such a one: 3 if agree is 1000, else 2 if apart is, else 0 (no line) if same is, else 1",
             GroundsEdgesTest::withoutDrawLines);
     }
 
     private static void depths() {
-        DOC.test(GROUNDS, "height - HIGH - UNDER HIGH - its greatest thickness, to height - LOW - UNDER LOW - its least thickness",
+        DOC.test(23, GROUNDS, "height - HIGH - UNDER HIGH - its greatest thickness, to height - LOW - UNDER LOW - its least thickness",
             GroundsEdgesTest::tops);
-        DOC.test(GROUNDS, "by all KEPT from the least to the greatest", GroundsEdgesTest::topsByAllKept);
-        DOC.test(GROUNDS, "the uppermost rock there that holds, with a tight one next below it", GroundsEdgesTest::uppermostThatHolds);
-        DOC.test(GROUNDS, "(height - HIGH - UNDER HIGH is 0 at least)", GroundsEdgesTest::footAtTheGround);
-        DOC.test(GROUNDS, "whose foot is not above the ground in any KEPT", GroundsEdgesTest::footInAnyKept);
-        DOC.test(GROUNDS, "the sum over its CELLS of the least thickness, if the least DEEP is 0 at least (else 0)",
+        DOC.test(23, GROUNDS, "by all KEPT from the least to the greatest", GroundsEdgesTest::topsByAllKept);
+        DOC.test(24, GROUNDS, "the uppermost rock there that holds, with a tight one next below it", GroundsEdgesTest::uppermostThatHolds);
+        DOC.test(24, GROUNDS, "(height - HIGH - UNDER HIGH is 0 at least)", GroundsEdgesTest::footAtTheGround);
+        DOC.test(24, GROUNDS, "whose foot is not above the ground in any KEPT", GroundsEdgesTest::footInAnyKept);
+        DOC.test(25, GROUNDS, "the sum over its CELLS of the least thickness, if the least DEEP is 0 at least (else 0)",
             GroundsEdgesTest::leastSeam);
-        DOC.test(GROUNDS, "to the sum of the greatest thickness, if its foot's greatest depth (height - LOW - UNDER LOW by all KEPT, "
+        DOC.test(25, GROUNDS, "to the sum of the greatest thickness, if its foot's greatest depth (height - LOW - UNDER LOW by all KEPT, "
             + "the greatest) is above 0 (else 0)", GroundsEdgesTest::greatestSeam);
     }
 

@@ -24,7 +24,7 @@ public final class RefusedCallsTest {
         sheets();
         plans();
         counts();
-        DOC.test("What it is", "An object is used for at most 512 calls after it has been made", RefusedCallsTest::fullLand);
+        DOC.test(1, "What it is", "An object is used for at most 512 calls after it has been made", RefusedCallsTest::fullLand);
         DOC.end();
     }
 
@@ -41,7 +41,7 @@ public final class RefusedCallsTest {
     }
 
     private static void days() {
-        DOC.test("Promise 2", "NONE for another n, beyond 9999", () -> {
+        DOC.test(2, "NONE for another n, beyond 9999", () -> {
             LandSurvey x = LandAtWork.make();
             for (int n = 0; n < 9; n++) {
                 x.days(1000);
@@ -56,7 +56,7 @@ public final class RefusedCallsTest {
             refused("one too many of 997", y, NONE, () -> y.days(997));
             CHECK.same("996", y.days(996), 9999);
         });
-        DOC.test("Promise 3", "false: a DAY behind NOW, below 0", () -> {
+        DOC.test(3, "false: a DAY behind NOW, below 0", () -> {
             LandSurvey x = LandAtWork.make();
             refused("the day behind now", x, FALSE, () -> flag(x.view(4)));
             x.view(2);
@@ -67,7 +67,7 @@ public final class RefusedCallsTest {
     }
 
     private static void sights() {
-        DOC.test("Promise 7", "the CELL is covered (kind 0)", () -> {
+        DOC.test(7, "the CELL is covered (kind 0)", () -> {
             LandSurvey x = LandAtWork.make();
             x.cell(4, 4, 500, false);
             refused("covered", x, NONE, () -> x.sight(0, 4, 4, 0, 0, 0));
@@ -75,7 +75,7 @@ public final class RefusedCallsTest {
                 CHECK.same("of other kinds", x.sight(kind, 4, 4, 0, 0, 0), LandAtWork.SIGHTS + kind - 1);
             }
         });
-        DOC.test("Promise 7", "40 are there", () -> {
+        DOC.test(7, "40 are there", () -> {
             LandSurvey x = LandAtWork.make();
             for (int k = LandAtWork.SIGHTS; k < 40; k++) {
                 CHECK.same("sight " + k, x.sight(2, 4, 4, 100, 0, 9000), k);
@@ -83,14 +83,14 @@ public final class RefusedCallsTest {
             refused("one too many", x, NONE, () -> x.sight(2, 4, 4, 100, 0, 9000));
             refused("one too many, seen", x, NONE, () -> x.sight(0, 4, 4, 0, 0, 0));
         });
-        DOC.test("Promise 7", "(facts: 1000 * colour + 100 * grain + 10 * hard + fizz)", () -> {
+        DOC.test(7, "(facts: 1000 * colour + 100 * grain + 10 * hard + fizz)", () -> {
             LandSurvey x = Check.with("rock a 0 to 0; name a when colour = 1 and grain = 2 and hard = 3 and fizz = 4;");
             x.sight(2, 0, 0, 0, 0, 1234);
             x.sight(2, 0, 0, 0, 0, 4321);
             CHECK.same("1234", x.look(0, 0), 0);
             CHECK.same("4321", x.look(1, 0), NONE);
         });
-        DOC.test("Promise 8", "false: no such SIGHT, other numbers, it has one", () -> {
+        DOC.test(8, "false: no such SIGHT, other numbers, it has one", () -> {
             LandSurvey x = LandAtWork.make();
             refused("it has one", x, FALSE, () -> flag(x.dip(0, 1, 2, 3)));
             refused("it has one, to another side", x, FALSE, () -> flag(x.dip(0, 3, 0, 0)));
@@ -100,7 +100,7 @@ public final class RefusedCallsTest {
             LandSurvey none = new LandSurvey();
             CHECK.no("no sight at all", none.dip(0, 0, 0, 0));
         });
-        DOC.test("Promise 9", "false: no such SIGHT, other number, it has one", () -> {
+        DOC.test(9, "false: no such SIGHT, other number, it has one", () -> {
             LandSurvey x = LandAtWork.make();
             refused("it has one", x, FALSE, () -> flag(x.remain(0, 2, false)));
             refused("it has one, washed in", x, FALSE, () -> flag(x.remain(0, 2, true)));
@@ -110,7 +110,7 @@ public final class RefusedCallsTest {
             LandSurvey none = new LandSurvey();
             CHECK.no("no sight at all", none.remain(0, 0, false));
         });
-        DOC.test("Promise 10", "false: none such, it is", () -> {
+        DOC.test(10, "false: none such, it is", () -> {
             LandSurvey x = LandAtWork.make();
             refused("it is", x, FALSE, () -> flag(x.withdraw(5)));
             x.view(0);
@@ -122,7 +122,7 @@ public final class RefusedCallsTest {
     }
 
     private static void tapeAndRules() {
-        DOC.test("Promise 11", "Up to 24 signs come behind the TAPE", () -> {
+        DOC.test(11, "Up to 24 signs come behind the TAPE", () -> {
             LandSurvey x = new LandSurvey();
             long eight = 0x2020202020202020L;
             CHECK.same("24", x.feed(eight, eight, eight), 24);
@@ -130,7 +130,7 @@ public final class RefusedCallsTest {
             CHECK.same("none", x.feed(0, 0, 0), 40);
             CHECK.same("one", x.feed(0, 32, 0), 41);
         });
-        DOC.test("Promise 11", "the bytes of a, b, c, of each the highest first", () -> {
+        DOC.test(11, "the bytes of a, b, c, of each the highest first", () -> {
             for (int place = 0; place < 24; place++) {
                 long[] three = {0x2020202020202020L, 0x2020202020202020L, 0x2020202020202020L};
                 int shift = 56 - 8 * (place % 8);
@@ -140,7 +140,7 @@ public final class RefusedCallsTest {
                 CHECK.same("byte " + place, x.rules(), 1 + 16 * place);
             }
         });
-        DOC.test("Promise 11", "others than 10 and 32 .. 126, and what is beyond 1,500, are left out: how many there are", () -> {
+        DOC.test(11, "others than 10 and 32 .. 126, and what is beyond 1,500, are left out: how many there are", () -> {
             LandSurvey x = new LandSurvey();
             long[] far = {Long.MIN_VALUE, Long.MAX_VALUE, -1L, 0L, Long.MIN_VALUE + 1, 0x7f7f7f7f7f7f7f7fL, 0x1f1f1f1f1f1f1f1fL,
                 0x0909090909090909L, 0x0b0b0b0b0b0b0b0bL, 0x8080808080808080L, 0xa0a0a0a0a0a0a0a0L};
@@ -151,7 +151,7 @@ public final class RefusedCallsTest {
             CHECK.same("the greatest sign", x.feed(0x7e, 0, 0), 2);
             CHECK.same("the least ones", x.feed(0x0a, 0x20, 0), 4);
         });
-        DOC.test("Promise 12", "The TAPE is read as RULES: 0; its FAULT", () -> {
+        DOC.test(12, "The TAPE is read as RULES: 0; its FAULT", () -> {
             LandSurvey x = LandAtWork.make();
             CHECK.same("what was on it", x.rules(), 1 + 16 * 7);
             CHECK.same("as they were", x.count(4), 3);
@@ -159,7 +159,7 @@ public final class RefusedCallsTest {
             CHECK.same("an empty one", x.rules(), 0);
             CHECK.same("no rock", x.count(4), 0);
         });
-        DOC.test("Promise 12", "-1: those of 8 DAYS are there", () -> {
+        DOC.test(12, "-1: those of 8 DAYS are there", () -> {
             LandSurvey x = new LandSurvey();
             for (int day = 0; day < 8; day++) {
                 CHECK.same("day " + day, Check.rules(x, PLAIN), 0);
@@ -173,21 +173,21 @@ public final class RefusedCallsTest {
     }
 
     private static void breaks() {
-        DOC.test("Promise 13", "4 are there", () -> {
+        DOC.test(13, "4 are there", () -> {
             LandSurvey x = LandAtWork.make();
             CHECK.same("the third", x.fault(8, 0, true, 8, 0, 0, 99), 2);
             CHECK.same("the fourth", x.fault(9, 0, true, 8, 0, 0, 99), 3);
             refused("one too many", x, NONE, () -> x.fault(0, 0, true, 1, 0, 0, 1));
             CHECK.same("all sets", x.cost(15), x.cost(0) + 5 + 7 + 99 + 99);
         });
-        DOC.test("Promise 13", "A BREAK more (down: yes, across: no): its number", () -> {
+        DOC.test(13, "A BREAK more (down: yes, across: no): its number", () -> {
             LandSurvey x = new LandSurvey();
             CHECK.same("down from the last line", x.fault(0, 7, true, 1, 0, 0, 1), 0);
             CHECK.same("across from the last line", x.fault(0, 7, false, 1, 0, 0, 1), NONE);
             CHECK.same("across from the last column", x.fault(11, 0, false, 1, 0, 0, 1), 1);
             CHECK.same("down from the last column", x.fault(11, 0, true, 1, 0, 0, 1), NONE);
         });
-        DOC.test("Promise 14", "false: another one", () -> {
+        DOC.test(14, "false: another one", () -> {
             LandSurvey x = LandAtWork.make();
             refused("1000", x, FALSE, () -> flag(x.rivalry(1000)));
             refused("-1", x, FALSE, () -> flag(x.rivalry(-1)));
@@ -195,7 +195,7 @@ public final class RefusedCallsTest {
     }
 
     private static void looks() {
-        DOC.test("Promise 15", "5, 6, 7 of one that says nothing", () -> {
+        DOC.test(15, "5, 6, 7 of one that says nothing", () -> {
             LandSurvey x = LandAtWork.make();
             CHECK.same("one without a rock", x.sight(2, 0, 0, 0, 0, 9000), LandAtWork.SIGHTS);
             x.view(0);
@@ -211,7 +211,7 @@ public final class RefusedCallsTest {
                 CHECK.no("not withdrawn yet", LandAtWork.answer(() -> x.look(5, asked)) == THROWN);
             }
         });
-        DOC.test("Promise 15", "its ROCK by THE RULES, in THE VIEW or not (NONE)", () -> {
+        DOC.test(15, "its ROCK by THE RULES, in THE VIEW or not (NONE)", () -> {
             LandSurvey x = LandAtWork.make();
             x.sight(2, 0, 0, 0, 0, 1000);
             x.sight(2, 0, 0, 0, 0, 9000);
@@ -221,7 +221,7 @@ public final class RefusedCallsTest {
             CHECK.same("not told yet, says nothing", x.look(6, 2), 0);
             CHECK.same("none", x.look(7, 0), NONE);
         });
-        DOC.test("Promise 15", "1 if it is doubted in THE BEST, else 0", () -> {
+        DOC.test(15, "1 if it is doubted in THE BEST, else 0", () -> {
             LandSurvey x = LandAtWork.make();
             CHECK.same("doubted", x.look(4, 4), 1);
             CHECK.same("not doubted", x.look(0, 4), 0);
@@ -231,7 +231,7 @@ public final class RefusedCallsTest {
                 CHECK.same("there is no best", none.look(k, 4), 0);
             }
         });
-        DOC.test("Promise 15", "(the how manieth name, rank or draw line, from 0)", () -> {
+        DOC.test(15, "(the how manieth name, rank or draw line, from 0)", () -> {
             LandSurvey x = Check.with("rank 5 when 1; draw full when 1; rock a 0 to 0; rank 6 when 1; name a when colour; name a when 1;");
             x.sight(2, 0, 0, 0, 0, 1000);
             x.sight(2, 0, 0, 0, 0, 0);
@@ -241,7 +241,7 @@ public final class RefusedCallsTest {
     }
 
     private static void grounds() {
-        DOC.test("Promise 16", "NONE: no such set, none", () -> {
+        DOC.test(16, "NONE: no such set, none", () -> {
             LandSurvey x = LandAtWork.makeWithoutGround();
             for (int set = 0; set < LandAtWork.SETS; set++) {
                 CHECK.same("no ground of " + set, x.cost(set), NONE);
@@ -251,7 +251,7 @@ public final class RefusedCallsTest {
             CHECK.same("without breaks", none.cost(0), 0);
             CHECK.same("without breaks", none.cost(1), NONE);
         });
-        DOC.test("Promise 17", "NONE: none such", () -> {
+        DOC.test(17, "NONE: none such", () -> {
             LandSurvey x = LandAtWork.make();
             CHECK.same("the first", x.doubted(3, 0), 4);
             CHECK.same("no second", x.doubted(3, 1), NONE);
@@ -259,7 +259,7 @@ public final class RefusedCallsTest {
             CHECK.same("no ground", y.doubted(0, 0), NONE);
             CHECK.same("nothing is doubted", new LandSurvey().doubted(0, 0), NONE);
         });
-        DOC.test("Promise 18", "NONE: there is none (3: 0), another what", () -> {
+        DOC.test(18, "NONE: there is none (3: 0), another what", () -> {
             LandSurvey x = LandAtWork.makeWithoutGround();
             int[] due = {NONE, NONE, NONE, 0, NONE};
             for (int what = 0; what < due.length; what++) {
@@ -267,7 +267,7 @@ public final class RefusedCallsTest {
             }
             CHECK.same("what -1", x.best(-1), NONE);
         });
-        DOC.test("Promise 19", "Whether the GROUND of a set of BREAKS is KEPT: 1 or 0; NONE: no such set", () -> {
+        DOC.test(19, "Whether the GROUND of a set of BREAKS is KEPT: 1 or 0; NONE: no such set", () -> {
             LandSurvey x = LandAtWork.makeWithoutGround();
             CHECK.same("nothing is kept", x.kept(0), 0);
             CHECK.same("nothing is kept", x.kept(LandAtWork.SETS - 1), 0);
@@ -276,7 +276,7 @@ public final class RefusedCallsTest {
             CHECK.same("without breaks", none.kept(0), 1);
             CHECK.same("without breaks", none.kept(1), NONE);
         });
-        DOC.test("Promise 20", "NoSuchElementException: none such, no GROUND, unknown", () -> {
+        DOC.test(20, "NoSuchElementException: none such, no GROUND, unknown", () -> {
             LandSurvey x = LandAtWork.makeWithoutGround();
             for (int set = 0; set < LandAtWork.SETS; set++) {
                 int asked = set;
@@ -291,18 +291,18 @@ public final class RefusedCallsTest {
     }
 
     private static void cells() {
-        DOC.test("Promise 21", "nothing is KEPT", () -> {
+        DOC.test(21, "nothing is KEPT", () -> {
             LandSurvey x = LandAtWork.makeWithoutGround();
             CHECK.same("at 0", x.lies(0, 0, 0), NONE);
             CHECK.same("at 2000", x.lies(11, 7, 2000), NONE);
         });
-        DOC.test("Promise 22", "nothing is KEPT", () -> {
+        DOC.test(22, "nothing is KEPT", () -> {
             LandSurvey x = LandAtWork.makeWithoutGround();
             for (int where = 0; where < 4; where++) {
                 CHECK.same("to " + where, x.line(5, 5, where), NONE);
             }
         });
-        DOC.test("Promise 23", "nothing is KEPT, unknown in one of them", () -> {
+        DOC.test(23, "nothing is KEPT, unknown in one of them", () -> {
             LandSurvey x = LandAtWork.makeWithoutGround();
             CHECK.none("nothing is kept", () -> x.deep(0, 0, 0, 0));
             LandSurvey y = LandAtWork.makeUnknownInOne();
@@ -313,7 +313,7 @@ public final class RefusedCallsTest {
             CHECK.same("both are kept", y.best(3), 2);
             CHECK.same("known in all", y.deep(9, 7, 1, 1), 500 - 391 - 9);
         });
-        DOC.test("Promise 24", "NONE: none such, none, nothing is KEPT, unknown in one of them", () -> {
+        DOC.test(24, "NONE: none such, none, nothing is KEPT, unknown in one of them", () -> {
             LandSurvey x = LandAtWork.makeWithoutGround();
             CHECK.same("nothing is kept", x.water(0, 0, 0), NONE);
             LandSurvey y = LandAtWork.makeUnknownInOne();
@@ -326,7 +326,7 @@ public final class RefusedCallsTest {
             CHECK.same("none", z.water(6, 6, 0), NONE);
             CHECK.same("none", z.water(6, 6, 1), NONE);
         });
-        DOC.test("Promise 25", "nothing is KEPT, unknown in one of them", () -> {
+        DOC.test(25, "nothing is KEPT, unknown in one of them", () -> {
             LandSurvey x = LandAtWork.makeWithoutGround();
             CHECK.same("nothing is kept", x.seam(0, 0, 0), NONE);
             LandSurvey y = LandAtWork.makeUnknownInOne();
@@ -339,7 +339,7 @@ public final class RefusedCallsTest {
     }
 
     private static void sheets() {
-        DOC.test("Promise 26", "nothing is KEPT, 10 are there", () -> {
+        DOC.test(26, "nothing is KEPT, 10 are there", () -> {
             LandSurvey x = LandAtWork.makeWithoutGround();
             refused("nothing is kept", x, NONE, () -> x.sheet(0, 0, 11, 7));
             LandSurvey y = LandAtWork.make();
@@ -348,7 +348,7 @@ public final class RefusedCallsTest {
             }
             refused("10 are there", y, NONE, () -> y.sheet(0, 0, 0, 0));
         });
-        DOC.test("Promise 27", "What a SHEET has for a CELL; NONE: none such, it is not of it", () -> {
+        DOC.test(27, "What a SHEET has for a CELL; NONE: none such, it is not of it", () -> {
             LandSurvey x = LandAtWork.makeWithoutGround();
             CHECK.yes("though nothing is kept", x.drawn(0, 0, 0) >= 0);
             CHECK.same("not of it", x.drawn(1, 0, 0), NONE);
@@ -356,7 +356,7 @@ public final class RefusedCallsTest {
             CHECK.same("not of it", x.drawn(1, 6, 7), NONE);
             CHECK.same("no sheet", new LandSurvey().drawn(0, 0, 0), NONE);
         });
-        DOC.test("Promise 28", "QUARREL; NONE: no such SHEETS", () -> {
+        DOC.test(28, "QUARREL; NONE: no such SHEETS", () -> {
             LandSurvey x = LandAtWork.makeWithoutGround();
             CHECK.same("though nothing is kept", x.quarrel(0, 1), 0);
             CHECK.same("one such alone", x.quarrel(1, 2), NONE);
@@ -364,7 +364,7 @@ public final class RefusedCallsTest {
             CHECK.same("neither", x.quarrel(2, 2), NONE);
             CHECK.same("no sheet", new LandSurvey().quarrel(0, 0), NONE);
         });
-        DOC.test("Promise 29", "STALE; NONE: no such SHEET, nothing is KEPT", () -> {
+        DOC.test(29, "STALE; NONE: no such SHEET, nothing is KEPT", () -> {
             LandSurvey x = LandAtWork.makeWithoutGround();
             CHECK.same("nothing is kept", x.stale(0), NONE);
             x.view(0);
@@ -372,7 +372,7 @@ public final class RefusedCallsTest {
             CHECK.same("fresh", LandAtWork.make().stale(0), 0);
             CHECK.same("no sheet", new LandSurvey().stale(0), NONE);
         });
-        DOC.test("Promise 30", "NONE: none such, the same", () -> {
+        DOC.test(30, "NONE: none such, the same", () -> {
             LandSurvey x = LandAtWork.make();
             for (int hand = 0; hand <= 5; hand++) {
                 CHECK.same("the same, " + hand, x.doubles(hand, hand, 0), NONE);
@@ -381,7 +381,7 @@ public final class RefusedCallsTest {
             CHECK.same("others", x.doubles(2, 3, 0), 1);
             CHECK.same("not alike", x.doubles(2, 3, 1), 0);
         });
-        DOC.test("Promise 31", "HABIT. NoSuchElementException: no such HAND", () -> {
+        DOC.test(31, "HABIT. NoSuchElementException: no such HAND", () -> {
             LandSurvey x = new LandSurvey();
             CHECK.same("the first", x.habit(0), 0);
             CHECK.same("the last", x.habit(5), 0);
@@ -401,7 +401,7 @@ public final class RefusedCallsTest {
     }
 
     private static void plans() {
-        DOC.test("Promise 32", "false: none such, 8 are", () -> {
+        DOC.test(32, "false: none such, 8 are", () -> {
             LandSurvey x = LandAtWork.make();
             for (int k = 2; k < 8; k++) {
                 CHECK.yes("question " + k, x.question(k, 0, true));
@@ -412,7 +412,7 @@ public final class RefusedCallsTest {
             CHECK.yes("another is one", x.question(11, 7, true));
             refused("8 are again", x, FALSE, () -> flag(x.question(2, 2, true)));
         });
-        DOC.test("Promise 33", "A PLACE more: its number; NONE: no such CELL, cost, 8 are there", () -> {
+        DOC.test(33, "A PLACE more: its number; NONE: no such CELL, cost, 8 are there", () -> {
             LandSurvey x = LandAtWork.make();
             for (int k = 2; k < 8; k++) {
                 CHECK.same("place " + k, x.place(0, 0, 99), k);
@@ -420,20 +420,20 @@ public final class RefusedCallsTest {
             refused("8 are there", x, NONE, () -> x.place(0, 0, 1));
             refused("8 are there, another", x, NONE, () -> x.place(11, 7, 99));
         });
-        DOC.test("Promise 34", "DOUBT; NONE: there is no BEST, unknown", () -> {
+        DOC.test(34, "DOUBT; NONE: there is no BEST, unknown", () -> {
             CHECK.same("there is no best", LandAtWork.makeWithoutGround().doubt(), NONE);
             CHECK.same("unknown", LandAtWork.makeUnknownInOne().doubt(), NONE);
             CHECK.same("a new one", new LandSurvey().doubt(), NONE);
             CHECK.yes("known", LandAtWork.make().doubt() > 0);
         });
-        DOC.test("Promise 35", "NONE: none such, there is no BEST, unknown", () -> {
+        DOC.test(35, "NONE: none such, there is no BEST, unknown", () -> {
             CHECK.same("there is no best", LandAtWork.makeWithoutGround().left(0), NONE);
             CHECK.same("unknown", LandAtWork.makeUnknownInOne().left(0), NONE);
             CHECK.same("none such", LandAtWork.makeUnknownInOne().left(1), NONE);
             CHECK.same("a new one", new LandSurvey().left(0), NONE);
             CHECK.yes("known", LandAtWork.make().left(0) >= 0);
         });
-        DOC.test("Promise 36", "NEXT; NONE: none", () -> {
+        DOC.test(36, "NEXT; NONE: none", () -> {
             CHECK.same("there is no best", LandAtWork.makeWithoutGround().next(), NONE);
             CHECK.same("unknown", LandAtWork.makeUnknownInOne().next(), NONE);
             CHECK.same("a new one", new LandSurvey().next(), NONE);
@@ -493,7 +493,7 @@ public final class RefusedCallsTest {
     }
 
     private static void counts() {
-        DOC.test("Promise 37", "CELLS of which one thing alone MAY LIE at depth 0 (0 if nothing is KEPT)", () -> {
+        DOC.test(37, "CELLS of which one thing alone MAY LIE at depth 0 (0 if nothing is KEPT)", () -> {
             LandSurvey x = Check.with("rock a 0 to 200; name a when 1; steep 0;");
             x.sight(2, 0, 0, 0, 0, 0);
             CHECK.same("a alone, or above", x.count(10), 0);
@@ -511,7 +511,7 @@ public final class RefusedCallsTest {
             CHECK.same("nothing is kept", y.count(10), 0);
             CHECK.same("unknown", new LandSurvey().count(10), 0);
         });
-        DOC.test("Promise 37", "SIGHTS that say something in which AGES QUARREL", () -> {
+        DOC.test(37, "SIGHTS that say something in which AGES QUARREL", () -> {
             LandSurvey x = LandAtWork.make();
             CHECK.same("one", x.count(7), 1);
             x.withdraw(0);
@@ -520,7 +520,7 @@ public final class RefusedCallsTest {
             x.view(2);
             CHECK.same("not withdrawn yet", x.count(7), 1);
         });
-        DOC.test("Promise 37", "2: SIGHTS, 3: those that say something", () -> {
+        DOC.test(37, "2: SIGHTS, 3: those that say something", () -> {
             LandSurvey x = LandAtWork.make();
             CHECK.same("all", x.count(2), LandAtWork.SIGHTS);
             CHECK.same("but the withdrawn one", x.count(3), LandAtWork.SIGHTS - 1);

@@ -20,82 +20,82 @@ public final class RulesEdgesTest {
     }
 
     private static void tape() {
-        DOC.test(RULES, "The TAPE has at most 1,500 signs", RulesEdgesTest::fullTape);
-        DOC.test(RULES, "The TAPE has at most 1,500 signs", RulesEdgesTest::firstSignsAreKept);
-        DOC.test(RULES, "10 and 32 .. 126", RulesEdgesTest::everySign);
-        DOC.test(RULES, "what reads it takes it: it is empty then", RulesEdgesTest::takenByReading);
-        DOC.test(RULES, "what reads it takes it: it is empty then", RulesEdgesTest::takenWhenFull);
+        DOC.test(11, RULES, "The TAPE has at most 1,500 signs", RulesEdgesTest::fullTape);
+        DOC.test(11, RULES, "The TAPE has at most 1,500 signs", RulesEdgesTest::firstSignsAreKept);
+        DOC.test(11, RULES, "10 and 32 .. 126", RulesEdgesTest::everySign);
+        DOC.test(12, RULES, "what reads it takes it: it is empty then", RulesEdgesTest::takenByReading);
+        DOC.test(12, RULES, "what reads it takes it: it is empty then", RulesEdgesTest::takenWhenFull);
     }
 
     private static void tokens() {
-        DOC.test(RULES, "TOKENS, each as long as can be", RulesEdgesTest::asLongAsCanBe);
-        DOC.test(RULES, "blanks (10, 32) between where one likes", RulesEdgesTest::blanks);
-        DOC.test(RULES, "WORDS (letters a .. z, 8 at most)", RulesEdgesTest::words);
-        DOC.test(RULES, "NUMBERS (1 to 4 digits; a letter may stand right behind)", RulesEdgesTest::numbers);
-        DOC.test(RULES, "the signs ( ) < = + - and the semicolon", RulesEdgesTest::otherSigns);
-        DOC.test(RULES, "All else (a longer WORD or NUMBER, too, at its first sign) is none", RulesEdgesTest::longerOnes);
+        DOC.test(12, RULES, "TOKENS, each as long as can be", RulesEdgesTest::asLongAsCanBe);
+        DOC.test(12, RULES, "blanks (10, 32) between where one likes", RulesEdgesTest::blanks);
+        DOC.test(12, RULES, "WORDS (letters a .. z, 8 at most)", RulesEdgesTest::words);
+        DOC.test(12, RULES, "NUMBERS (1 to 4 digits; a letter may stand right behind)", RulesEdgesTest::numbers);
+        DOC.test(12, RULES, "the signs ( ) < = + - and the semicolon", RulesEdgesTest::otherSigns);
+        DOC.test(12, RULES, "All else (a longer WORD or NUMBER, too, at its first sign) is none", RulesEdgesTest::longerOnes);
     }
 
     private static void forms() {
-        DOC.test(RULES, "RULES: any number of", RulesEdgesTest::anyNumber);
+        DOC.test(12, RULES, "RULES: any number of", RulesEdgesTest::anyNumber);
         String[] all = {"rock NAME N to N ;", "name NAME when E ;", "rank N when E ;", "draw full when E ;", "draw broken when E ;",
             "draw dotted when E ;", "steep N ;", "drift N ;", "holds NAME ;", "tight NAME ;", "remain N from NAME to NAME ;"};
         for (String form : all) {
-            DOC.test(RULES, form, () -> form(form));
+            DOC.test(12, RULES, form, () -> form(form));
         }
-        DOC.test(RULES, "E: TEST { and TEST or or TEST }", RulesEdgesTest::tests);
-        DOC.test(RULES, "TEST: SUM [ < SUM or = SUM ]", RulesEdgesTest::sums);
-        DOC.test(RULES, "SUM: FACT { + or - FACT }", RulesEdgesTest::factsInSums);
-        DOC.test(RULES, "FACT: N, colour, grain, hard, fizz, kind, hand, depth, height, agree, apart, same, kept, not FACT, ( E )",
+        DOC.test(12, RULES, "E: TEST { and TEST or or TEST }", RulesEdgesTest::tests);
+        DOC.test(12, RULES, "TEST: SUM [ < SUM or = SUM ]", RulesEdgesTest::sums);
+        DOC.test(12, RULES, "SUM: FACT { + or - FACT }", RulesEdgesTest::factsInSums);
+        DOC.test(12, RULES, "FACT: N, colour, grain, hard, fizz, kind, hand, depth, height, agree, apart, same, kept, not FACT, ( E )",
             RulesEdgesTest::factsAlone);
-        DOC.test(RULES, "4 of not and ( ) within one another", RulesEdgesTest::withinOneAnother);
+        DOC.test(12, RULES, "4 of not and ( ) within one another", RulesEdgesTest::withinOneAnother);
     }
 
     private static void limits() {
-        DOC.test(RULES, "from the youngest (0) to the oldest, 10 at most", RulesEdgesTest::tenRocks);
-        DOC.test(RULES, "with its thickness from .. to, 0 to 200 each, not from above to", RulesEdgesTest::thickness);
-        DOC.test(RULES, "NAME elsewhere: of a rock that was told ahead", RulesEdgesTest::toldAhead);
-        DOC.test(RULES, "name, rank and draw: 24 lines together", RulesEdgesTest::lines);
-        DOC.test(RULES, "N of rank 1 to 99", RulesEdgesTest::ranks);
-        DOC.test(RULES, "steep and drift 0 to 99, each once (10 and 20 without)", RulesEdgesTest::steepAndDrift);
-        DOC.test(RULES, "steep and drift 0 to 99, each once (10 and 20 without)", RulesEdgesTest::withoutSteepAndDrift);
-        DOC.test(RULES, "remain: 0 to 9, each once, from a rock to one that is not younger", RulesEdgesTest::remains);
-        DOC.test(RULES, "NAMES are other WORDS than all that stand above", RulesEdgesTest::names);
+        DOC.test(12, RULES, "from the youngest (0) to the oldest, 10 at most", RulesEdgesTest::tenRocks);
+        DOC.test(12, RULES, "with its thickness from .. to, 0 to 200 each, not from above to", RulesEdgesTest::thickness);
+        DOC.test(12, RULES, "NAME elsewhere: of a rock that was told ahead", RulesEdgesTest::toldAhead);
+        DOC.test(12, RULES, "name, rank and draw: 24 lines together", RulesEdgesTest::lines);
+        DOC.test(12, RULES, "N of rank 1 to 99", RulesEdgesTest::ranks);
+        DOC.test(12, RULES, "steep and drift 0 to 99, each once (10 and 20 without)", RulesEdgesTest::steepAndDrift);
+        DOC.test(12, RULES, "steep and drift 0 to 99, each once (10 and 20 without)", RulesEdgesTest::withoutSteepAndDrift);
+        DOC.test(12, RULES, "remain: 0 to 9, each once, from a rock to one that is not younger", RulesEdgesTest::remains);
+        DOC.test(12, RULES, "NAMES are other WORDS than all that stand above", RulesEdgesTest::names);
     }
 
     private static void faults() {
-        DOC.test(RULES, "kind + 16 * the place (from 0) of a token", RulesEdgesTest::places);
-        DOC.test(RULES, "the end being one at the text's length", RulesEdgesTest::endOfText);
-        DOC.test(RULES, "of the first token from the left that is wrong", RulesEdgesTest::firstWrongOne);
-        DOC.test(RULES, "the least: 1 it is none, or can't stand there", RulesEdgesTest::leastOfTwo);
-        DOC.test(RULES, "1 it is none, or can't stand there", RulesEdgesTest::noneOrMisplaced);
-        DOC.test(RULES, "2 a NAME that is not told", RulesEdgesTest::untold);
-        DOC.test(RULES, "3 a rock's NAME that is told, the words steep, drift, or N of a remain told again", RulesEdgesTest::toldAgain);
-        DOC.test(RULES, "4 a NUMBER that is not as told (a thickness to below its from, too)", RulesEdgesTest::numbersAmiss);
-        DOC.test(RULES, "the second NAME of remain that is younger than the first", RulesEdgesTest::secondName);
-        DOC.test(RULES, "5 one too many: the words rock, name, rank, draw", RulesEdgesTest::oneTooMany);
-        DOC.test(RULES, "not, or a FACT, within 4 others", RulesEdgesTest::oneTooDeep);
+        DOC.test(12, RULES, "kind + 16 * the place (from 0) of a token", RulesEdgesTest::places);
+        DOC.test(12, RULES, "the end being one at the text's length", RulesEdgesTest::endOfText);
+        DOC.test(12, RULES, "of the first token from the left that is wrong", RulesEdgesTest::firstWrongOne);
+        DOC.test(12, RULES, "the least: 1 it is none, or can't stand there", RulesEdgesTest::leastOfTwo);
+        DOC.test(12, RULES, "1 it is none, or can't stand there", RulesEdgesTest::noneOrMisplaced);
+        DOC.test(12, RULES, "2 a NAME that is not told", RulesEdgesTest::untold);
+        DOC.test(12, RULES, "3 a rock's NAME that is told, the words steep, drift, or N of a remain told again", RulesEdgesTest::toldAgain);
+        DOC.test(12, RULES, "4 a NUMBER that is not as told (a thickness to below its from, too)", RulesEdgesTest::numbersAmiss);
+        DOC.test(12, RULES, "the second NAME of remain that is younger than the first", RulesEdgesTest::secondName);
+        DOC.test(12, RULES, "5 one too many: the words rock, name, rank, draw", RulesEdgesTest::oneTooMany);
+        DOC.test(12, RULES, "not, or a FACT, within 4 others", RulesEdgesTest::oneTooDeep);
     }
 
     private static void days() {
-        DOC.test(RULES, "in force from the DAY NOW on", RulesEdgesTest::fromNowOn);
-        DOC.test(RULES, "(in place of those read on the same DAY)", RulesEdgesTest::inPlace);
-        DOC.test(RULES, "RULES without a FAULT are in force", RulesEdgesTest::notWithAFault);
-        DOC.test(RULES, "of 8 DAYS at most (-1 then, the TAPE is empty)", RulesEdgesTest::eightDays);
-        DOC.test(RULES, "of 8 DAYS at most (-1 then, the TAPE is empty)", RulesEdgesTest::eighthDayAgain);
-        DOC.test(RULES, "without any there is no rock", RulesEdgesTest::withoutAny);
+        DOC.test(12, RULES, "in force from the DAY NOW on", RulesEdgesTest::fromNowOn);
+        DOC.test(12, RULES, "(in place of those read on the same DAY)", RulesEdgesTest::inPlace);
+        DOC.test(12, RULES, "RULES without a FAULT are in force", RulesEdgesTest::notWithAFault);
+        DOC.test(12, RULES, "of 8 DAYS at most (-1 then, the TAPE is empty)", RulesEdgesTest::eightDays);
+        DOC.test(12, RULES, "of 8 DAYS at most (-1 then, the TAPE is empty)", RulesEdgesTest::eighthDayAgain);
+        DOC.test(12, RULES, "without any there is no rock", RulesEdgesTest::withoutAny);
     }
 
     private static void meaning() {
-        DOC.test(RULES, "that of the first name line whose E is not 0", RulesEdgesTest::firstName);
-        DOC.test(RULES, "height: of its CELL", RulesEdgesTest::heightOfItsCell);
-        DOC.test(RULES, "agree, apart, same, kept: 0", RulesEdgesTest::factsOfLines);
-        DOC.test(RULES, "not: 1 of 0, else 0", RulesEdgesTest::negated);
-        DOC.test(RULES, "\"and\", \"or\", <, = tell 1 or 0", RulesEdgesTest::oneOrZero);
-        DOC.test(RULES, "and, or in E go from the left alike", RulesEdgesTest::fromTheLeft);
-        DOC.test(RULES, "N of the first rank line whose E is not 0, else 10", RulesEdgesTest::worth);
-        DOC.test(RULES, "if its ROCK is not one from the first to the second rock of that REMAIN", RulesEdgesTest::ages);
-        DOC.test(RULES, "AGES QUARREL in a SIGHT with a ROCK and a REMAIN that THE RULES tell and that was not washed in",
+        DOC.test(15, RULES, "that of the first name line whose E is not 0", RulesEdgesTest::firstName);
+        DOC.test(15, RULES, "height: of its CELL", RulesEdgesTest::heightOfItsCell);
+        DOC.test(15, RULES, "agree, apart, same, kept: 0", RulesEdgesTest::factsOfLines);
+        DOC.test(15, RULES, "not: 1 of 0, else 0", RulesEdgesTest::negated);
+        DOC.test(15, RULES, "\"and\", \"or\", <, = tell 1 or 0", RulesEdgesTest::oneOrZero);
+        DOC.test(15, RULES, "and, or in E go from the left alike", RulesEdgesTest::fromTheLeft);
+        DOC.test(15, RULES, "N of the first rank line whose E is not 0, else 10", RulesEdgesTest::worth);
+        DOC.test(15, RULES, "if its ROCK is not one from the first to the second rock of that REMAIN", RulesEdgesTest::ages);
+        DOC.test(15, RULES, "AGES QUARREL in a SIGHT with a ROCK and a REMAIN that THE RULES tell and that was not washed in",
             RulesEdgesTest::agesOfNone);
     }
 

@@ -52,13 +52,19 @@ final class Sentences {
             case "2 RULES": return between("==== 2.", "==== 3.");
             case "3 GROUNDS": return between("==== 3.", "==== 4.");
             case "4 SHEETS": return between("==== 4.", "The constants:");
-            default: return between("## " + where + ":", "## ");
+            default: return between("## " + where + ":", " ## ");
         }
     }
 
-    void test(String where, String sentence, Body body) {
+    /** A sentence of the promise itself. */
+    void test(int promise, String sentence, Body body) {
+        test(promise, "Promise " + promise, sentence, body);
+    }
+
+    /** A sentence of a part that the promise rests on. */
+    void test(int promise, String where, String sentence, Body body) {
         tests++;
-        check.head(where + ", \"" + sentence + "\": ");
+        check.head("promise " + promise + ", " + where + " \"" + sentence + "\": ");
         check.yes("that it stands there", document.isEmpty() || part(where).contains(flat(sentence)));
         int asked = check.asked();
         try {

@@ -15,38 +15,38 @@ public final class SheetsEdgesTest {
     }
 
     private static void sheets() {
-        DOC.test(SHEETS, "SHEETS, 10 at most, are drawn", SheetsEdgesTest::tenSheets);
-        DOC.test(SHEETS, "of the CELLS from a column and line to another column and line", SheetsEdgesTest::cellsOfASheet);
-        DOC.test(SHEETS, "what MAY LIE at depth 0, by THE VIEW as it is", SheetsEdgesTest::drawnByTheView);
-        DOC.test(SHEETS, "how many CELLS of both have nothing in common in them", SheetsEdgesTest::quarrels);
-        DOC.test(SHEETS, "how many CELLS of both have nothing in common in them", SheetsEdgesTest::quarrelsOfSheetsThatHardlyMeet);
-        DOC.test(SHEETS, "how many of its CELLS would be drawn otherwise now", SheetsEdgesTest::staleCells);
+        DOC.test(26, SHEETS, "SHEETS, 10 at most, are drawn", SheetsEdgesTest::tenSheets);
+        DOC.test(27, SHEETS, "of the CELLS from a column and line to another column and line", SheetsEdgesTest::cellsOfASheet);
+        DOC.test(26, SHEETS, "what MAY LIE at depth 0, by THE VIEW as it is", SheetsEdgesTest::drawnByTheView);
+        DOC.test(28, SHEETS, "how many CELLS of both have nothing in common in them", SheetsEdgesTest::quarrels);
+        DOC.test(28, SHEETS, "how many CELLS of both have nothing in common in them", SheetsEdgesTest::quarrelsOfSheetsThatHardlyMeet);
+        DOC.test(29, SHEETS, "how many of its CELLS would be drawn otherwise now", SheetsEdgesTest::staleCells);
     }
 
     private static void hands() {
-        DOC.test(SHEETS, "pairs of SIGHTS that say something, one of each HAND, of one CELL and depth", SheetsEdgesTest::doubles);
-        DOC.test(SHEETS, "pairs of SIGHTS that say something, one of each HAND, of one CELL and depth", SheetsEdgesTest::mostDoubles);
-        DOC.test(SHEETS, "ALIKE: those with the same ROCK", SheetsEdgesTest::alike);
-        DOC.test(SHEETS, "n is 3 at least", SheetsEdgesTest::threeAtLeast);
-        DOC.test(SHEETS, "if 2 times S either way is above n", SheetsEdgesTest::twiceTheSum);
-        DOC.test(SHEETS, "1 (names older) if S is above 0, -1 if below", SheetsEdgesTest::olderOrYounger);
-        DOC.test(SHEETS, "over all its DOUBLES with other HANDS, n in all", SheetsEdgesTest::withOtherHands);
+        DOC.test(30, SHEETS, "pairs of SIGHTS that say something, one of each HAND, of one CELL and depth", SheetsEdgesTest::doubles);
+        DOC.test(30, SHEETS, "pairs of SIGHTS that say something, one of each HAND, of one CELL and depth", SheetsEdgesTest::mostDoubles);
+        DOC.test(30, SHEETS, "ALIKE: those with the same ROCK", SheetsEdgesTest::alike);
+        DOC.test(31, SHEETS, "n is 3 at least", SheetsEdgesTest::threeAtLeast);
+        DOC.test(31, SHEETS, "if 2 times S either way is above n", SheetsEdgesTest::twiceTheSum);
+        DOC.test(31, SHEETS, "1 (names older) if S is above 0, -1 if below", SheetsEdgesTest::olderOrYounger);
+        DOC.test(31, SHEETS, "over all its DOUBLES with other HANDS, n in all", SheetsEdgesTest::withOtherHands);
     }
 
     private static void questions() {
-        DOC.test(SHEETS, "QUESTIONS: a set of CELLS, 8 at most", SheetsEdgesTest::eightQuestions);
-        DOC.test(SHEETS, "QUESTIONS: a set of CELLS, 8 at most", SheetsEdgesTest::questionsAreASet);
-        DOC.test(SHEETS, "PLACES: CELLS, 8 at most, each with a cost (1 to 99)", SheetsEdgesTest::eightPlaces);
-        DOC.test(SHEETS, "PLACES: CELLS, 8 at most, each with a cost (1 to 99)", SheetsEdgesTest::placeCosts);
-        DOC.test(SHEETS, "the sum over QUESTIONS of HIGH - LOW in THE BEST", SheetsEdgesTest::doubtOfTheBest);
-        DOC.test(SHEETS, "how much higher the BASE can be there than here by what THE BEST says of neighbours", SheetsEdgesTest::ways);
-        DOC.test(SHEETS, "how much higher the BASE can be there than here by what THE BEST says of neighbours", SheetsEdgesTest::waysOfTheBest);
-        DOC.test(SHEETS, "for v of LOW, HIGH, and (LOW + HIGH) / 2, cut downwards, of the PLACE", SheetsEdgesTest::cutDownwards);
-        DOC.test(SHEETS, "for v of LOW, HIGH, and (LOW + HIGH) / 2, cut downwards, of the PLACE", SheetsEdgesTest::lowOrHigh);
-        DOC.test(SHEETS, "the PLACE with the greatest (DOUBT - LEFT) / cost as a fraction", SheetsEdgesTest::fractions);
-        DOC.test(SHEETS, "of equal ones the first", SheetsEdgesTest::firstOfEqualOnes);
-        DOC.test(SHEETS, "none if nothing is above 0, or unknown", SheetsEdgesTest::nothingAboveZero);
-        DOC.test(SHEETS, "none if nothing is above 0, or unknown", SheetsEdgesTest::unknownOnes);
+        DOC.test(32, SHEETS, "QUESTIONS: a set of CELLS, 8 at most", SheetsEdgesTest::eightQuestions);
+        DOC.test(32, SHEETS, "QUESTIONS: a set of CELLS, 8 at most", SheetsEdgesTest::questionsAreASet);
+        DOC.test(33, SHEETS, "PLACES: CELLS, 8 at most, each with a cost (1 to 99)", SheetsEdgesTest::eightPlaces);
+        DOC.test(33, SHEETS, "PLACES: CELLS, 8 at most, each with a cost (1 to 99)", SheetsEdgesTest::placeCosts);
+        DOC.test(34, SHEETS, "the sum over QUESTIONS of HIGH - LOW in THE BEST", SheetsEdgesTest::doubtOfTheBest);
+        DOC.test(35, SHEETS, "how much higher the BASE can be there than here by what THE BEST says of neighbours", SheetsEdgesTest::ways);
+        DOC.test(36, SHEETS, "how much higher the BASE can be there than here by what THE BEST says of neighbours", SheetsEdgesTest::waysOfTheBest);
+        DOC.test(35, SHEETS, "for v of LOW, HIGH, and (LOW + HIGH) / 2, cut downwards, of the PLACE", SheetsEdgesTest::cutDownwards);
+        DOC.test(35, SHEETS, "for v of LOW, HIGH, and (LOW + HIGH) / 2, cut downwards, of the PLACE", SheetsEdgesTest::lowOrHigh);
+        DOC.test(36, SHEETS, "the PLACE with the greatest (DOUBT - LEFT) / cost as a fraction", SheetsEdgesTest::fractions);
+        DOC.test(36, SHEETS, "of equal ones the first", SheetsEdgesTest::firstOfEqualOnes);
+        DOC.test(36, SHEETS, "none if nothing is above 0, or unknown", SheetsEdgesTest::nothingAboveZero);
+        DOC.test(36, SHEETS, "none if nothing is above 0, or unknown", SheetsEdgesTest::unknownOnes);
     }
 
     /** Base 450 alone under two rocks of 50: 480 shows b alone, 520 a alone. */

@@ -15,21 +15,21 @@ public final class TermsEdgesTest {
     }
 
     public static void main(String[] args) {
-        DOC.test(TERMS, "DAYS are 0 to 9999", TermsEdgesTest::lastDay);
-        DOC.test(TERMS, "DAYS are 0 to 9999", TermsEdgesTest::whatIsToldOnTheLastDay);
-        DOC.test(TERMS, "NOW is one, 0 at first", () -> CHECK.same("now", new LandSurvey().count(0), 0));
-        DOC.test(TERMS, "12 columns (0 to 11) and 8 lines (0 to 7)", TermsEdgesTest::spotsThatAreTold);
-        DOC.test(TERMS, "12 columns (0 to 11) and 8 lines (0 to 7)", TermsEdgesTest::spotsThatAreAskedOf);
-        DOC.test(TERMS, "12 columns (0 to 11) and 8 lines (0 to 7)", TermsEdgesTest::spotsOfSheetsAndPlans);
-        DOC.test(TERMS, "its neighbours are those left, right, above, below", TermsEdgesTest::noWayRoundTheEdge);
-        DOC.test(TERMS, "its neighbours are those left, right, above, below", TermsEdgesTest::noWayAslant);
-        DOC.test(TERMS, "its neighbours are those left, right, above, below", TermsEdgesTest::linesToNeighbours);
-        DOC.test(TERMS, "a height (0 to 999; 500 at first)", TermsEdgesTest::heights);
-        DOC.test(TERMS, "a height (0 to 999; 500 at first)", TermsEdgesTest::heightAtFirst);
-        DOC.test(TERMS, "is bare (at first) or covered", TermsEdgesTest::bareAtFirst);
-        DOC.test(TERMS, "turned over (the limb of a fold) or not (at first)", TermsEdgesTest::notTurnedAtFirst);
-        DOC.test(TERMS, "may be held by one of OWNERS 0 to 3 (by none at first)", TermsEdgesTest::owners);
-        DOC.test(TERMS, "may be held by one of OWNERS 0 to 3 (by none at first)", TermsEdgesTest::heldByNoneAtFirst);
+        DOC.test(2, TERMS, "DAYS are 0 to 9999", TermsEdgesTest::lastDay);
+        DOC.test(3, TERMS, "DAYS are 0 to 9999", TermsEdgesTest::whatIsToldOnTheLastDay);
+        DOC.test(2, TERMS, "NOW is one, 0 at first", () -> CHECK.same("now", new LandSurvey().count(0), 0));
+        DOC.test(4, TERMS, "12 columns (0 to 11) and 8 lines (0 to 7)", TermsEdgesTest::spotsThatAreTold);
+        DOC.test(20, TERMS, "12 columns (0 to 11) and 8 lines (0 to 7)", TermsEdgesTest::spotsThatAreAskedOf);
+        DOC.test(26, TERMS, "12 columns (0 to 11) and 8 lines (0 to 7)", TermsEdgesTest::spotsOfSheetsAndPlans);
+        DOC.test(20, TERMS, "its neighbours are those left, right, above, below", TermsEdgesTest::noWayRoundTheEdge);
+        DOC.test(20, TERMS, "its neighbours are those left, right, above, below", TermsEdgesTest::noWayAslant);
+        DOC.test(22, TERMS, "its neighbours are those left, right, above, below", TermsEdgesTest::linesToNeighbours);
+        DOC.test(4, TERMS, "a height (0 to 999; 500 at first)", TermsEdgesTest::heights);
+        DOC.test(4, TERMS, "a height (0 to 999; 500 at first)", TermsEdgesTest::heightAtFirst);
+        DOC.test(7, TERMS, "is bare (at first) or covered", TermsEdgesTest::bareAtFirst);
+        DOC.test(5, TERMS, "turned over (the limb of a fold) or not (at first)", TermsEdgesTest::notTurnedAtFirst);
+        DOC.test(6, TERMS, "may be held by one of OWNERS 0 to 3 (by none at first)", TermsEdgesTest::owners);
+        DOC.test(6, TERMS, "may be held by one of OWNERS 0 to 3 (by none at first)", TermsEdgesTest::heldByNoneAtFirst);
         sights();
         dipsAndRemains();
         views();
@@ -37,34 +37,34 @@ public final class TermsEdgesTest {
     }
 
     private static void sights() {
-        DOC.test(TERMS, "SIGHTS, 40 at most", TermsEdgesTest::fortySights);
-        DOC.test(TERMS, "0 SEEN (on a CELL that is bare then)", TermsEdgesTest::bareThen);
-        DOC.test(TERMS, "0 SEEN (on a CELL that is bare then), 1 LOOSE stones, 2 BORE, 3 MINE, 4 WELL", TermsEdgesTest::kinds);
-        DOC.test(TERMS, "a depth (0 of kinds 0 and 1, 0 to 999 of others)", TermsEdgesTest::depths);
-        DOC.test(TERMS, "a HAND (0 to 5)", TermsEdgesTest::hands);
-        DOC.test(TERMS, "four facts (0 to 9 each): colour, grain, hard, fizz", TermsEdgesTest::facts);
-        DOC.test(TERMS, "It is told on a DAY (NOW)", TermsEdgesTest::toldNowWhateverTheView);
-        DOC.test(TERMS, "it may be WITHDRAWN, once, on a DAY (NOW)", TermsEdgesTest::withdrawnOnce);
-        DOC.test(TERMS, "it may be WITHDRAWN, once, on a DAY (NOW)", TermsEdgesTest::withdrawnNowWhateverTheView);
+        DOC.test(7, TERMS, "SIGHTS, 40 at most", TermsEdgesTest::fortySights);
+        DOC.test(7, TERMS, "0 SEEN (on a CELL that is bare then)", TermsEdgesTest::bareThen);
+        DOC.test(7, TERMS, "0 SEEN (on a CELL that is bare then), 1 LOOSE stones, 2 BORE, 3 MINE, 4 WELL", TermsEdgesTest::kinds);
+        DOC.test(7, TERMS, "a depth (0 of kinds 0 and 1, 0 to 999 of others)", TermsEdgesTest::depths);
+        DOC.test(7, TERMS, "a HAND (0 to 5)", TermsEdgesTest::hands);
+        DOC.test(7, TERMS, "four facts (0 to 9 each): colour, grain, hard, fizz", TermsEdgesTest::facts);
+        DOC.test(7, TERMS, "It is told on a DAY (NOW)", TermsEdgesTest::toldNowWhateverTheView);
+        DOC.test(10, TERMS, "it may be WITHDRAWN, once, on a DAY (NOW)", TermsEdgesTest::withdrawnOnce);
+        DOC.test(10, TERMS, "it may be WITHDRAWN, once, on a DAY (NOW)", TermsEdgesTest::withdrawnNowWhateverTheView);
     }
 
     private static void dipsAndRemains() {
-        DOC.test(TERMS, "A SIGHT may have a DIP (told once)", TermsEdgesTest::dipOnce);
-        DOC.test(TERMS, "to a neighbour (0 left, 1 right, 2 above, 3 below)", TermsEdgesTest::dipWays);
-        DOC.test(TERMS, "the BASE (see 3) is n higher (-99 to 99)", TermsEdgesTest::dipHeights);
-        DOC.test(TERMS, "or up to w (0 to 99) more or less than that", TermsEdgesTest::dipWidths);
-        DOC.test(TERMS, "a REMAIN found in it (told once, 0 to 9), washed in or not", TermsEdgesTest::remainOnce);
-        DOC.test(TERMS, "a REMAIN found in it (told once, 0 to 9), washed in or not", TermsEdgesTest::remainNumbers);
-        DOC.test(TERMS, "a REMAIN found in it (told once, 0 to 9), washed in or not", TermsEdgesTest::washedOrNot);
+        DOC.test(8, TERMS, "A SIGHT may have a DIP (told once)", TermsEdgesTest::dipOnce);
+        DOC.test(8, TERMS, "to a neighbour (0 left, 1 right, 2 above, 3 below)", TermsEdgesTest::dipWays);
+        DOC.test(8, TERMS, "the BASE (see 3) is n higher (-99 to 99)", TermsEdgesTest::dipHeights);
+        DOC.test(8, TERMS, "or up to w (0 to 99) more or less than that", TermsEdgesTest::dipWidths);
+        DOC.test(9, TERMS, "a REMAIN found in it (told once, 0 to 9), washed in or not", TermsEdgesTest::remainOnce);
+        DOC.test(9, TERMS, "a REMAIN found in it (told once, 0 to 9), washed in or not", TermsEdgesTest::remainNumbers);
+        DOC.test(9, TERMS, "a REMAIN found in it (told once, 0 to 9), washed in or not", TermsEdgesTest::washedOrNot);
     }
 
     private static void views() {
-        DOC.test(TERMS, "SIGHTS told on it or ahead", TermsEdgesTest::viewOfTold);
-        DOC.test(TERMS, "and not WITHDRAWN on it or ahead", TermsEdgesTest::viewOfWithdrawn);
-        DOC.test(TERMS, "and not WITHDRAWN on it or ahead", TermsEdgesTest::toldAndWithdrawnOnADay);
-        DOC.test(TERMS, "RULES in force on it", TermsEdgesTest::viewOfRules);
-        DOC.test(TERMS, "It is NOW until another one is told, and NOW again if that is told", TermsEdgesTest::viewGoesWithNow);
-        DOC.test(TERMS, "All else is as it is", TermsEdgesTest::allElseIsAsItIs);
+        DOC.test(3, TERMS, "SIGHTS told on it or ahead", TermsEdgesTest::viewOfTold);
+        DOC.test(3, TERMS, "and not WITHDRAWN on it or ahead", TermsEdgesTest::viewOfWithdrawn);
+        DOC.test(3, TERMS, "and not WITHDRAWN on it or ahead", TermsEdgesTest::toldAndWithdrawnOnADay);
+        DOC.test(3, TERMS, "RULES in force on it", TermsEdgesTest::viewOfRules);
+        DOC.test(3, TERMS, "It is NOW until another one is told, and NOW again if that is told", TermsEdgesTest::viewGoesWithNow);
+        DOC.test(3, TERMS, "All else is as it is", TermsEdgesTest::allElseIsAsItIs);
     }
 
     private static LandSurvey onDay(int day) {
