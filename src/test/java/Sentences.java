@@ -64,7 +64,8 @@ final class Sentences {
     /** A sentence of a part that the promise rests on. */
     void test(int promise, String where, String sentence, Body body) {
         tests++;
-        check.head("promise " + promise + ", " + where + " \"" + sentence + "\": ");
+        String named = "Promise " + promise;
+        check.head((where.equals(named) ? named : named + ", " + where) + ", \"" + sentence + "\": ");
         check.yes("that it stands there", document.isEmpty() || part(where).contains(flat(sentence)));
         int asked = check.asked();
         try {
