@@ -32,6 +32,7 @@ public final class FaceTest {
 
     public static void main(String[] args) throws IOException {
         face();
+        document();
         hidden();
         inside();
         text(Files.readString(Path.of("src/main/java/LandSurvey.java")));
@@ -60,6 +61,24 @@ public final class FaceTest {
         Constructor<?>[] made = LandSurvey.class.getDeclaredConstructors();
         CHECK.yes("one constructor", made.length == 1 && Modifier.isPublic(made[0].getModifiers()));
         CHECK.same("without parameters", made[0].getParameterCount(), 0);
+    }
+
+    /** FACE is written out above, so that it holds without the document; here it is held against it. */
+    private static void document() throws IOException {
+        Path path = Path.of("../shared/DOC.md");
+        if (!Files.isReadable(path)) {
+            System.out.println("no document at " + path + ": the face was not held against it");
+            return;
+        }
+        String text = Files.readString(path);
+        Matcher told = Pattern.compile("    public (\\w+ \\w+)\\(([^)]*)\\)( throws NoSuchElementException)?;").matcher(text);
+        Set<String> found = new TreeSet<>();
+        while (told.find()) {
+            found.add(told.group(1) + "(" + told.group(2).replaceAll("(\\w+) \\w+(, )?", "$1,").replaceAll(",$", "") + ")");
+        }
+        CHECK.yes("the face of the document: " + found, found.equals(new TreeSet<>(Arrays.asList(FACE))));
+        CHECK.yes("its constant", text.contains("public static final int NONE = -1;") && LandSurvey.NONE == -1);
+        CHECK.yes("its constructor", text.contains("    public LandSurvey();"));
     }
 
     private static void hidden() {
