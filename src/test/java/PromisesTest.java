@@ -1,6 +1,7 @@
 /** Each promise of the document by hand: ordinary inputs, the edges that it names, wrong inputs. */
 public final class PromisesTest {
     private static final Check CHECK = new Check();
+    private static final Sentences DOC = new Sentences("promises", CHECK);
     private static final int FAR_OFF = Integer.MAX_VALUE;
     private static final int FAR_BELOW = Integer.MIN_VALUE;
 
@@ -8,50 +9,98 @@ public final class PromisesTest {
     }
 
     public static void main(String[] args) {
-        newObject();
-        days();
-        view();
-        cell();
-        fold();
-        own();
-        sight();
-        sightLimit();
-        dip();
-        dipsOfOneSide();
-        dipsAtTheEdges();
-        dipsThatHardlyClash();
-        remain();
-        withdraw();
-        feed();
-        rulesByDays();
-        breaks();
-        breaksOverDips();
-        rivalry();
-        look();
-        cost();
-        doubted();
-        best();
-        kept();
-        base();
-        lies();
-        line();
-        lineByDrawRules();
-        deep();
-        water();
-        seam();
-        sheet();
-        drawn();
-        quarrel();
-        stale();
-        doubles();
-        habit();
-        question();
-        place();
-        doubtLeftNext();
-        nextOfEqualOnes();
-        count();
-        unknownGround();
-        CHECK.end("promises");
+        land();
+        told();
+        grounds();
+        beneath();
+        sheetsAndHands();
+        plans();
+        DOC.end();
+    }
+
+    private static void land() {
+        DOC.test(1, "No SIGHT, no RULES, no BREAK; NOW is 0", PromisesTest::newObject);
+        DOC.test(2, "n DAYS pass (0 to 1000): NOW; NONE for another n, beyond 9999", PromisesTest::days);
+        DOC.test(3, "THE VIEW: true; false: a DAY behind NOW, below 0", PromisesTest::view);
+        DOC.test(4, "A CELL's height and whether it is bare: true; false: none such, another height", PromisesTest::cell);
+        DOC.test(5, "A CELL is turned over (yes) or not: true; false: none such", PromisesTest::fold);
+        DOC.test(6, "A CELL's OWNER (NONE: nobody): true; false: none such", PromisesTest::own);
+    }
+
+    private static void told() {
+        DOC.test(7, "A SIGHT (facts: 1000 * colour + 100 * grain + 10 * hard + fizz): its number; NONE: other numbers, the "
+            + "CELL is covered (kind 0), 40 are there", PromisesTest::sight);
+        DOC.test(7, "A SIGHT (facts: 1000 * colour + 100 * grain + 10 * hard + fizz): its number; NONE: other numbers, the "
+            + "CELL is covered (kind 0), 40 are there", PromisesTest::sightLimit);
+        DOC.test(8, "A DIP: true; false: no such SIGHT, other numbers, it has one", PromisesTest::dip);
+        DOC.test(8, "A DIP: true; false: no such SIGHT, other numbers, it has one", PromisesTest::dipsOfOneSide);
+        DOC.test(8, "A DIP: true; false: no such SIGHT, other numbers, it has one", PromisesTest::dipsAtTheEdges);
+        DOC.test(8, "A DIP: true; false: no such SIGHT, other numbers, it has one", PromisesTest::dipsThatHardlyClash);
+        DOC.test(9, "A REMAIN: true; false: no such SIGHT, other number, it has one", PromisesTest::remain);
+        DOC.test(10, "WITHDRAWN: true; false: none such, it is", PromisesTest::withdraw);
+        DOC.test(11, "Up to 24 signs come behind the TAPE: the bytes of a, b, c, of each the highest first; others than 10 and "
+            + "32 .. 126, and what is beyond 1,500, are left out: how many there are", PromisesTest::feed);
+        DOC.test(12, "The TAPE is read as RULES: 0; its FAULT; -1: those of 8 DAYS are there", PromisesTest::rulesByDays);
+        DOC.test(13, "A BREAK more (down: yes, across: no): its number; NONE: other numbers, SIDES off THE LAND, 4 are there",
+            PromisesTest::breaks);
+        DOC.test(13, "A BREAK more (down: yes, across: no): its number; NONE: other numbers, SIDES off THE LAND, 4 are there",
+            PromisesTest::breaksOverDips);
+        DOC.test(14, "RIVALRY: true; false: another one", PromisesTest::rivalry);
+    }
+
+    private static void grounds() {
+        DOC.test(15, "Of a SIGHT, what 0: its ROCK by THE RULES, in THE VIEW or not (NONE), 1: WORTH, 2: 1 if it says "
+            + "something by THE VIEW, else 0, 3: 1 if AGES QUARREL in it, else 0, 4: 1 if it is doubted in THE BEST, "
+            + "else 0, 5, 6: what it says of the BASE, at least, at most, 7: which line of THE RULES named it (the how "
+            + "manieth name, rank or draw line, from 0). NoSuchElementException: none such; 5, 6, 7 of one that says "
+            + "nothing", PromisesTest::look);
+        DOC.test(16, "Of a set of BREAKS (bits): the COST of its GROUND; NONE: no such set, none", PromisesTest::cost);
+        DOC.test(17, "The i-th SIGHT doubted in the GROUND of a set of BREAKS; NONE: none such", PromisesTest::doubted);
+        DOC.test(18, "THE BEST, what 0: its set of BREAKS, 1: COST, 2: how many SIGHTS are doubted, 3: how many GROUNDS are "
+            + "KEPT; NONE: there is none (3: 0), another what", PromisesTest::best);
+        DOC.test(19, "Whether the GROUND of a set of BREAKS is KEPT: 1 or 0; NONE: no such set", PromisesTest::kept);
+        DOC.test(20, "LOW (0), HIGH (1) of a CELL in the GROUND of a set of BREAKS. NoSuchElementException: none such, no "
+            + "GROUND, unknown", PromisesTest::base);
+        DOC.test(20, "LOW (0), HIGH (1) of a CELL in the GROUND of a set of BREAKS. NoSuchElementException: none such, no "
+            + "GROUND, unknown", PromisesTest::unknownGround);
+    }
+
+    private static void beneath() {
+        DOC.test(21, "What MAY LIE at a depth (0 to 2000) under a CELL by all KEPT, as bits; NONE: no such CELL, depth, "
+            + "nothing is KEPT", PromisesTest::lies);
+        DOC.test(22, "LINE between a CELL and a neighbour (0 left .. 3 below); NONE: none such, nothing is KEPT",
+            PromisesTest::line);
+        DOC.test(22, "LINE between a CELL and a neighbour (0 left .. 3 below); NONE: none such, nothing is KEPT",
+            PromisesTest::lineByDrawRules);
+        DOC.test(23, "DEEP of a rock under a CELL, what 0: from, 1: to. NoSuchElementException: none such, nothing is KEPT, "
+            + "unknown in one of them", PromisesTest::deep);
+        DOC.test(24, "WATER under a CELL, what 0: from, 1: to; NONE: none such, none, nothing is KEPT, unknown in one of them",
+            PromisesTest::water);
+        DOC.test(25, "SEAM of a rock under an OWNER, what 0: from, 1: to; NONE: none such, nothing is KEPT, unknown in one of "
+            + "them", PromisesTest::seam);
+    }
+
+    private static void sheetsAndHands() {
+        DOC.test(26, "A SHEET is drawn: its number; NONE: CELLS off THE LAND, from behind to, nothing is KEPT, 10 are there",
+            PromisesTest::sheet);
+        DOC.test(27, "What a SHEET has for a CELL; NONE: none such, it is not of it", PromisesTest::drawn);
+        DOC.test(28, "QUARREL; NONE: no such SHEETS", PromisesTest::quarrel);
+        DOC.test(29, "STALE; NONE: no such SHEET, nothing is KEPT", PromisesTest::stale);
+        DOC.test(30, "Of two HANDS, what 0: DOUBLES, 1: ALIKE; NONE: none such, the same", PromisesTest::doubles);
+        DOC.test(31, "HABIT. NoSuchElementException: no such HAND", PromisesTest::habit);
+    }
+
+    private static void plans() {
+        DOC.test(32, "A CELL is a QUESTION (yes) or none: true; false: none such, 8 are", PromisesTest::question);
+        DOC.test(33, "A PLACE more: its number; NONE: no such CELL, cost, 8 are there", PromisesTest::place);
+        DOC.test(34, "DOUBT; NONE: there is no BEST, unknown", PromisesTest::doubt);
+        DOC.test(35, "LEFT of a PLACE; NONE: none such, there is no BEST, unknown", PromisesTest::left);
+        DOC.test(36, "NEXT; NONE: none", PromisesTest::next);
+        DOC.test(36, "NEXT; NONE: none", PromisesTest::nextOfEqualOnes);
+        DOC.test(37, "What 0: NOW, 1: THE VIEW, 2: SIGHTS, 3: those that say something, 4: rocks of THE RULES, 5: BREAKS, 6: "
+            + "SHEETS, 7: SIGHTS that say something in which AGES QUARREL, 8: DAYS with RULES, 9: signs on the TAPE, "
+            + "10: CELLS of which one thing alone MAY LIE at depth 0 (0 if nothing is KEPT), 11: QUESTIONS, 12: PLACES. "
+            + "NONE for another what", PromisesTest::count);
     }
 
     private static void newObject() {
@@ -1038,30 +1087,54 @@ public final class PromisesTest {
         CHECK.same("33 count", x.count(12), 8);
     }
 
-    private static void doubtLeftNext() {
+    private static LandSurvey asking() {
         LandSurvey x = Check.with("rock a 0 to 100; name a when 1; steep 3;");
         x.question(2, 0, true);
         x.question(0, 1, true);
         x.place(0, 0, 10);
         x.place(2, 0, 4);
         x.place(11, 7, 1);
+        return x;
+    }
+
+    private static LandSurvey askingBehindADip() {
+        LandSurvey x = Check.with("rock a 0 to 5; name a when 1; steep 9;");
+        x.sight(2, 5, 5, 501, 0, 0);
+        x.dip(0, 1, 20, 3);
+        x.question(6, 5, true);
+        x.place(5, 5, 1);
+        x.place(6, 5, 1);
+        return x;
+    }
+
+    private static void doubt() {
+        LandSurvey x = asking();
         CHECK.same("34 unknown", x.doubt(), -1);
-        CHECK.same("35 unknown", x.left(0), -1);
-        CHECK.same("36 unknown", x.next(), -1);
         x.sight(2, 0, 0, 0, 0, 0);
         // 400 to 500 at the sight; 6 more either way at one question, 3 at the other
         CHECK.same("34 doubt", x.doubt(), 112 + 106);
+        x.question(2, 0, false);
+        x.question(0, 1, false);
+        CHECK.same("34 nothing asked", x.doubt(), 0);
+        CHECK.same("34 by the dip", askingBehindADip().doubt(), 11);
+        for (int k = 1; k < 5; k++) {
+            x.sight(2, 0, 0, 200 * k, 0, 0);
+        }
+        CHECK.same("34 there is no best", x.doubt(), -1);
+    }
+
+    private static void left() {
+        LandSurvey x = asking();
+        CHECK.same("35 unknown", x.left(0), -1);
+        x.sight(2, 0, 0, 0, 0, 0);
         CHECK.same("35 at the sight", x.left(0), 12 + 6);
         CHECK.same("35 at a question", x.left(1), 18);
         CHECK.same("35 far off", x.left(2), Math.min(112, 96) + Math.min(106, 102));
         CHECK.same("35 none such", x.left(3), -1);
         CHECK.same("35 none such", x.left(-1), -1);
-        CHECK.same("36 the greatest gain for its cost", x.next(), 1);
         x.question(2, 0, false);
         x.question(0, 1, false);
-        CHECK.same("34 nothing asked", x.doubt(), 0);
         CHECK.same("35 nothing asked", x.left(0), 0);
-        CHECK.same("36 nothing above 0", x.next(), -1);
         LandSurvey z = Check.with("rock a 0 to 100; name a when 1; steep 10;");
         z.sight(2, 0, 0, 0, 0, 0);
         z.sight(2, 2, 0, 60, 0, 0);
@@ -1069,17 +1142,23 @@ public final class PromisesTest {
         z.place(0, 0, 1);
         // 400 to 460 at either; at 400 there 400 to 420 is left here, at 460 and 430 more
         CHECK.same("35 the greatest of three", z.left(0), 40);
-        LandSurvey y = Check.with("rock a 0 to 5; name a when 1; steep 9;");
-        y.sight(2, 5, 5, 501, 0, 0);
-        y.dip(0, 1, 20, 3);
-        y.question(6, 5, true);
-        y.place(5, 5, 1);
-        y.place(6, 5, 1);
-        CHECK.same("34 by the dip", y.doubt(), 11);
+        LandSurvey y = askingBehindADip();
         CHECK.same("35 by the dip", y.left(0), 6);
         y.question(5, 5, true);
         // low 11, high 22 there; the middle 16 leaves 5 here
         CHECK.same("35 the middle is cut downwards", y.left(1), 5);
+    }
+
+    private static void next() {
+        LandSurvey x = asking();
+        CHECK.same("36 unknown", x.next(), -1);
+        x.sight(2, 0, 0, 0, 0, 0);
+        CHECK.same("36 the greatest gain for its cost", x.next(), 1);
+        x.question(2, 0, false);
+        x.question(0, 1, false);
+        CHECK.same("36 nothing above 0", x.next(), -1);
+        LandSurvey y = askingBehindADip();
+        y.question(5, 5, true);
         CHECK.same("36 the first gains more than the other", y.next(), 1);
     }
 
