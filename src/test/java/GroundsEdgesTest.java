@@ -47,6 +47,8 @@ public final class GroundsEdgesTest {
         DOC.test(20, GROUNDS, "Between neighbours the BASE changes by steep at most either way", GroundsEdgesTest::steepAtMost);
         DOC.test(20, GROUNDS, "as all of these say, steep or not", GroundsEdgesTest::asAllDipsSay);
         DOC.test(20, GROUNDS, "as all of these say, steep or not", GroundsEdgesTest::dipsUpAStair);
+        DOC.test(17, GROUNDS, "as all of these say, steep or not", () -> windingRing(false));
+        DOC.test(17, GROUNDS, "as all of these say, steep or not", () -> windingRing(true));
         DOC.test(17, GROUNDS, "if SIGHTS that are not doubted say a DIP of the two", GroundsEdgesTest::dipsOfDoubted);
         DOC.test(20, GROUNDS, "as its throw says, alone (of several the least BREAK)", GroundsEdgesTest::throwAlone);
         DOC.test(20, GROUNDS, "as its throw says, alone (of several the least BREAK)", GroundsEdgesTest::leastOfSeveral);
@@ -65,6 +67,7 @@ public final class GroundsEdgesTest {
         DOC.test(19, GROUNDS, "KEPT are all GROUNDS whose COST is at most RIVALRY (0 to 999; 0 at first) above that", GroundsEdgesTest::rivals);
         DOC.test(14, GROUNDS, "KEPT are all GROUNDS whose COST is at most RIVALRY (0 to 999; 0 at first) above that", GroundsEdgesTest::rivalries);
         DOC.test(20, GROUNDS, "unknown if no SIGHT that is not doubted says anything of a BASE", GroundsEdgesTest::unknownBase);
+        DOC.test(20, GROUNDS, "unknown if no SIGHT that is not doubted says anything of a BASE", GroundsEdgesTest::allAreDoubted);
         DOC.test(20, GROUNDS, "(a DIP alone does not)", GroundsEdgesTest::dipAlone);
     }
 
@@ -448,6 +451,50 @@ public final class GroundsEdgesTest {
         }
     }
 
+    /** Cells of a ring that goes up and down through all columns and back along the line below them. */
+    private static int[][] ring() {
+        int[][] cells = new int[36][];
+        int n = 0;
+        for (int column = 0; column < 12; column++) {
+            boolean up = column % 2 == 0;
+            cells[n++] = new int[] {column, up ? 5 : 4};
+            cells[n++] = new int[] {column, up ? 4 : 5};
+        }
+        for (int column = 11; column >= 0; column--) {
+            cells[n++] = new int[] {column, 6};
+        }
+        return cells;
+    }
+
+    /**
+     * Dips that lead round the ring to a base that is one higher than it was: all of them are in the clash, and it
+     * is found only when the ring has been gone round. Two deep sights in the corner keep out of it.
+     */
+    private static void windingRing(boolean back) {
+        int[][] ring = ring();
+        LandSurvey x = Check.with(tenRocks("0 to 200") + "name a when 1; steep 99; rank 9 when hand = 1;");
+        x.sight(2, 0, 0, 999, 0, 0);
+        x.sight(2, 1, 0, 999, 0, 0);
+        for (int k = 0; k < ring.length; k++) {
+            int[] here = ring[k];
+            int[] there = ring[(k + (back ? ring.length - 1 : 1)) % ring.length];
+            int where = here[1] == there[1] ? (there[0] < here[0] ? 0 : 1) : (there[1] < here[1] ? 2 : 3);
+            CHECK.same("sight", x.sight(2, here[0], here[1], 0, k == 20 ? 1 : 0, 0), 2 + k);
+            CHECK.yes("dip", x.dip(2 + k, where, k == 13 ? 1 : 0, 0));
+        }
+        CHECK.same("one is doubted", x.best(2), 1);
+        CHECK.same("the cheapest", x.doubted(0, 0), 22);
+        CHECK.same("cost", x.best(1), 9);
+        x.fault(0, 5, false, 1, 1, 1, 8);
+        x.fault(0, 5, false, 1, 0, 0, 8);
+        x.fault(11, 5, false, 1, back ? 1 : -1, back ? 1 : -1, 8);
+        CHECK.same("a throw that makes up for it, the one way round alone", x.cost(1), back ? 17 : 8);
+        CHECK.same("a throw that changes nothing", x.cost(2), 17);
+        CHECK.same("a throw that makes up for it", x.cost(4), 8);
+        x.withdraw(22);
+        CHECK.same("nothing is doubted", x.best(1), 0);
+    }
+
     private static void dipsOfDoubted() {
         LandSurvey x = Check.with(PLAIN + "steep 5; rank 1 when hand = 1;");
         x.sight(2, 4, 4, 0, 0, 0);
@@ -726,6 +773,23 @@ public final class GroundsEdgesTest {
         CHECK.none("doubted", () -> y.base(0, 3, 3, 0));
         y.sight(2, 7, 7, 3, 0, 0);
         span(y, 0, 3, 3, 497, 497);
+    }
+
+    /** Each of these dips can't be by itself, so each sight that says something is doubted, whatever its number. */
+    private static void allAreDoubted() {
+        LandSurvey x = Check.with("rock a 0 to 0; name a when colour < 5; steep 0;");
+        x.sight(2, 5, 5, 0, 0, 9000);
+        for (int k = 1; k <= 3; k++) {
+            x.sight(2, 3 * k, 3, k, 0, 0);
+            x.dip(k, 1, 50, 0);
+            CHECK.same("doubted", x.best(2), k);
+            CHECK.same("the last", x.doubted(0, k - 1), k);
+            CHECK.none("unknown", () -> x.base(0, 3, 3, 0));
+            CHECK.same("all rocks and both", x.lies(3, 3, 0), 3073);
+            CHECK.same("no doubt is known", x.doubt(), -1);
+        }
+        x.sight(2, 0, 7, 4, 0, 0);
+        span(x, 0, 3, 3, 496, 496);
     }
 
     private static void dipAlone() {
